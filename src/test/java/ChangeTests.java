@@ -187,6 +187,8 @@ public final class ChangeTests {
         full.quarrel(0, 3, 7);
         TestKit.due("8: end behind all", full.end(0, 3, 8), 1);
         TestKit.due("8: last bar", full.key(7), 4);
+        full.quarrel(0, 1, 0);
+        TestKit.due("8: without end to the last bar", full.key(7), 5);
     }
 
     private static void promise9() {

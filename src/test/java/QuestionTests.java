@@ -28,6 +28,8 @@ public final class QuestionTests {
         promise27();
         promise27Ties();
         promise28();
+        lowestFloorAndFirstBeat();
+        fullHouse();
         TestKit.finish();
     }
 
@@ -263,6 +265,17 @@ public final class QuestionTests {
         TestKit.due("27: as far as needed", x.bestShift(0, 3), 3);
         TestKit.tell(x, "s04@0*2;s04@4*2;s14@0*2");
         TestKit.due("27: nowhere to go", x.bestShift(0, 4), 0);
+        farthestShift();
+    }
+
+    private static void farthestShift() {
+        SisterSteps x = TestKit.newHouse(2);
+        TestKit.tell(x, "q010;q020;q030;s00@0*4;s10@0*1;s10@1*1;s10@2*1;s10@3*1");
+        TestKit.tell(x, "s20@1*4;s30@2*2;s30@3*2");
+        TestKit.due("27: four floors up", x.bestShift(0, 0), 4);
+        TestKit.tell(x, "s01@4*4;s11@4*1;s11@3*1;s11@2*1;s11@1*1");
+        TestKit.tell(x, "s21@3*4;s31@2*2;s31@1*2");
+        TestKit.due("27: four floors down", x.bestShift(0, 1), -4);
     }
 
     private static void promise28() {
@@ -282,5 +295,73 @@ public final class QuestionTests {
                 NoSuchElementException.class, bad -> x.ranked(0, bad));
         x.coda(0, 3);
         TestKit.due("28: played or not", x.ranked(0, 3), 1);
+    }
+
+    private static void lowestFloorAndFirstBeat() {
+        SisterSteps x = TestKit.newHouse(2);
+        TestKit.tell(x, "q010;s00@0*1;s10@0*1;s01@1*1;s11@0*1;s21@3*1");
+        TestKit.due("20: on floor 0", x.clashesAgain(0), 1);
+        TestKit.due("19: on floor 0", x.clashes(0), 1);
+        TestKit.due("21: on floor 0", x.beatsOn(0, 0, 0), 1);
+        TestKit.due("22: floor 0", x.fullest(0, 0), 0);
+        TestKit.due("22: floor 0 of several", x.fullest(1, 0), 0);
+        TestKit.due("25: the first beat differs", x.areAlike(0, 0, 1), false);
+        TestKit.tell(x, "r20*4;r20*3;s20@1*1;r21*4;r21*3");
+        TestKit.due("25: the last beat differs", x.areAlike(2, 0, 1), false);
+        TestKit.due("21: in the last beat", x.beatsOn(2, 0, 1), 128);
+        TestKit.due("22: in the last beat", x.fullest(0, 7), 1);
+    }
+
+    /** Eight bars that are full for each sister, all on floor 4, and all of them quarrel. */
+    private static void fullHouse() {
+        SisterSteps x = TestKit.newHouse(8);
+        for (int bar = 0; bar < 8; bar++) {
+            for (int sister = 0; sister < 4; sister++) {
+                x.step(sister, bar, 4, 4);
+                x.step(sister, bar, 4, 4);
+            }
+        }
+        TestKit.tell(x, "q010;q020;q030;q120;q130;q230");
+        for (int bar = 0; bar < 8; bar++) {
+            askFullBar(x, bar);
+        }
+        TestKit.due("17: full", x.stepsOf(3), 64);
+        TestKit.due("24: full", x.playedSteps(), 256);
+        TestKit.due("36: full", x.meanSteps(), 32.0);
+        TestKit.due("37: full", x.fullShare(), 1.0f);
+        TestKit.due("38: signs", x.account(1), 64);
+        TestKit.due("38: steps", x.account(2), 256);
+        TestKit.due("38: clashes", x.account(3), 384);
+        TestKit.due("38: quarrels", x.account(4), 6);
+        TestKit.due("6: taken back", x.takeBack(3, 7), 4);
+        TestKit.due("6: taken back", x.takeBack(0, 0), 4);
+        TestKit.due("15: without those taken back", x.steps(7), 28);
+        TestKit.due("17: without those taken back", x.stepsOf(0), 60);
+        TestKit.due("28: lacking", x.ranked(2, 1), 7);
+        TestKit.due("28: steps", x.ranked(0, 7), 7);
+        TestKit.due("37: not full", x.fullShare(), 30.0f / 32.0f);
+    }
+
+    private static void askFullBar(SisterSteps x, int bar) {
+        TestKit.due("11: full", x.floorAt(3, bar, 7), 4);
+        TestKit.due("12: full", x.sounding(bar, 7), 15);
+        TestKit.due("14: full", x.lacking(3, bar), 0);
+        TestKit.due("15: full", x.steps(bar), 32);
+        TestKit.due("16: full", x.stepsAgain(bar), 32);
+        TestKit.due("18: full", x.key(bar), 63);
+        TestKit.due("19: full", x.clashes(bar), 48);
+        TestKit.due("20: full", x.clashesAgain(bar), 48);
+        TestKit.due("21: full", x.beatsOn(3, bar, 4), 255);
+        TestKit.due("22: full", x.fullest(bar, 7), 4);
+        TestKit.due("23: full", x.played(bar), bar);
+        TestKit.due("25: full", x.areAlike(3, bar, 7), true);
+        TestKit.due("26: full", x.wouldClash(3, bar, -4), 24);
+        TestKit.due("27: full", x.bestShift(3, bar), -1);
+        for (int measure = 0; measure < 4; measure++) {
+            TestKit.due("28: full", x.ranked(measure, bar), bar);
+        }
+        TestKit.due("33: full", x.line(3, bar), 7);
+        TestKit.due("34: full", x.staff(bar, 4), 8);
+        TestKit.due("34: full", TestKit.lineOf(x), "++++++++");
     }
 }

@@ -10,6 +10,7 @@ public final class TextTests {
         promise30();
         promise30Refused();
         promise30Detail();
+        promise30Longest();
         promise31();
         promise32();
         promise33();
@@ -68,7 +69,8 @@ public final class TextTests {
             }
             TestKit.due("30: " + text + " carries none out", TestKit.houseOf(x), before);
         }
-        TestKit.answerOf(() -> x.bar() + x.takeBack(3, 0));
+        TestKit.answerOf(() -> TestKit.tell(x, "b;n;n"));
+        TestKit.answerOf(() -> x.takeBack(3, 0));
         TestKit.due("30: another call has the index 0", x.reason(2), 0);
     }
 
@@ -88,6 +90,16 @@ public final class TextTests {
             TestKit.due("30: undo behind refused texts", x.undo(), left);
         }
         TestKit.due("30: undo behind refused texts", x.account(0), 2);
+    }
+
+    private static void promise30Longest() {
+        SisterSteps x = new SisterSteps();
+        String longest = "b;q010;s00@1*1;s00@1*1;s00@1*1;s00@1*1;s00@1*1;s00@1*1;r00*1";
+        TestKit.due("30: sixty characters", longest.length(), 60);
+        TestKit.due("30: sixty characters", TestKit.tell(x, longest), 9);
+        TestKit.type(x, "b;b;b;b;b;b;b;b;b;b;b;b;b;b;b;b;b;b;b;b;b;b;b;b;b;b;b;b;b;b;");
+        TestKit.due("30: ends too early", TestKit.answerOf(() -> x.commands()), "throws.IllegalArgumentException");
+        TestKit.due("31: the length", x.faultPosition(), 60);
     }
 
     private static void promise31() {

@@ -8,6 +8,7 @@ public final class UndoTests {
         promise39();
         promise39EachChange();
         promise39WhatStays();
+        promise39Rows();
         promise40();
         promise41();
         TestKit.finish();
@@ -84,6 +85,23 @@ public final class UndoTests {
         TestKit.due("39: fault position stays", x.faultPosition(), 2);
         TestKit.due("39: reason stays", x.reason(0), 12);
         TestKit.due("39: buffer stays", x.account(10), 2);
+    }
+
+    private static void promise39Rows() {
+        SisterSteps x = TestKit.newHouse(8);
+        TestKit.tell(x, "s37@2*3;u37@1*2;q010");
+        String before = TestKit.undoableOf(x);
+        x.takeBack(3, 7);
+        x.takeBack(3, 7);
+        x.step(3, 7, 4, 1);
+        x.rest(3, 7, 4);
+        x.end(0, 1, 3);
+        x.undo();
+        TestKit.due("39: end is undone", x.key(7), 1);
+        for (int undone = 1; undone < 5; undone++) {
+            x.undo();
+        }
+        TestKit.due("39: the signs before are back", TestKit.undoableOf(x), before);
     }
 
     private static void promise40() {
