@@ -16,6 +16,10 @@ final class TestKit {
         }
     }
 
+    static int checks() {
+        return checks;
+    }
+
     /** The call throws just this exception and changes nothing, not even the reason. */
     static void rejected(SisterSteps x, String what, Class<?> exception, Supplier<?> call) {
         String before = allOf(x);
