@@ -27,6 +27,15 @@ final class TestRun {
         return new TestRun(calls);
     }
 
+    /** The calls that append the characters of a text. */
+    static String[] typed(String text) {
+        String[] appended = new String[text.length()];
+        for (int index = 0; index < appended.length; index++) {
+            appended[index] = "append(" + (int) text.charAt(index) + ")";
+        }
+        return appended;
+    }
+
     /** The text that adds so many bars. */
     static String bars(int count) {
         return "b;".repeat(count).substring(0, 2 * count - 1);
@@ -98,6 +107,15 @@ final class TestRun {
         return this;
     }
 
+    /** The call answers something and leaves all as it was. */
+    TestRun leavesAll(String call) {
+        TestHouse house = house();
+        due(call + " throws", house.call(call).startsWith(THROWS), false);
+        due(call + " and the reason", house.reason(), house().reason());
+        staysAfter(call, true);
+        return this;
+    }
+
     /** The call is refused and leaves all but the reason as it was. */
     TestRun refuses(String call, int reason, int detail) {
         TestHouse house = house();
@@ -119,6 +137,27 @@ final class TestRun {
         TestHouse house = house();
         due(text, house.tell(text), commands);
         due(text + " and the texts", house.texts(), "0 -1");
+        return this;
+    }
+
+    /** The text of one command does what the call does, or is refused as it is. */
+    TestRun doesAs(String text, String call) {
+        TestHouse told = house();
+        TestHouse called = house();
+        String answer = told.tell(text);
+        String wanted = called.call(call);
+        due(text, answer, wanted.startsWith(THROWS) ? wanted : "1");
+        due(text + " and the reason", told.reason(), called.reason());
+        due(text + " and the state", told.state(), called.state());
+        return this;
+    }
+
+    /** The fault position of the text, or -1 if it has no fault. */
+    TestRun faultOf(String text, int position) {
+        TestHouse house = house();
+        boolean isFaulty = house.tell(text).equals(THROWS + ARGUMENT);
+        due(text + " has a fault", isFaulty, position >= 0);
+        due(text + " and the texts", house.texts(), "0 " + position);
         return this;
     }
 
