@@ -99,7 +99,8 @@ public final class ChangeEdgeTests {
         full.refuses("step(4, 3, 0, 1)", 1, 0).refuses("step(0, 3, 5, 1)", 1, 0).refuses("step(0, 3, 0, 0)", 1, 0);
         full.refuses("step(0, 0, 5, 1)", 1, 0).refuses("step(0, 0, 0, 5)", 1, 0).refuses("step(0, 0, -1, 4)", 1, 0);
         full.refuses("step(-1, -1, -1, -1)", 1, 0);
-        TestSentence.sentence(3, "A call that throws an exception leaves the state unchanged, unless stated otherwise.");
+        TestSentence.sentence(3,
+                "A call that throws an exception leaves the state unchanged, unless stated otherwise.");
         TestRun changed = TestRun.after("bar()", "bar()", "step(0, 0, 1, 4)", "save()", "rest(0, 0, 2)", "undo()",
                 "step(0, 0, 3, 2)", "bar()", "!b;", "line(0, 0)", "append(98)");
         changed.refuses("step(0, 0, 4, 3)", 4, 2).refuses("step(0, 3, 4, 3)", 3, 3).refuses("step(0, 0, 4, 0)", 1, 0);
@@ -169,7 +170,8 @@ public final class ChangeEdgeTests {
         five.and("r00*2").refuses("stair(0, 0, 1, 2, false)", 4, 1);
         TestRun full = five.and("r00*3");
         full.refuses("stair(0, 0, 1, 2, false)", 4, 0).answers("stair(0, 1, 1, 2, false)", 6);
-        TestSentence.sentence(5, "if it is refused for the reason 1, for the sister, the floor or the length, 5, 3 or 4");
+        TestSentence.sentence(5,
+                "if it is refused for the reason 1, for the sister, the floor or the length, 5, 3 or 4");
         full.refuses("stair(4, 0, 4, 2, true)", 1, 0).refuses("stair(0, 0, 4, 3, true)", 1, 0);
         full.refuses("stair(0, 0, 0, 1, false)", 1, 0).refuses("stair(0, 3, 1, 3, true)", 1, 0);
         full.refuses("stair(4, 3, 1, 2, true)", 1, 0).refuses("stair(0, 3, 5, 2, true)", 1, 0);
@@ -223,7 +225,8 @@ public final class ChangeEdgeTests {
                 .answers("quarrel(1, 2, 7)", 8).answers("quarrel(1, 3, 7)", 16).answers("quarrel(2, 3, 7)", 32);
         house.answers("quarrel(1, 0, 0)", 1).answers("quarrel(2, 0, 0)", 2).answers("quarrel(3, 0, 0)", 4)
                 .answers("quarrel(2, 1, 0)", 8).answers("quarrel(3, 1, 0)", 16).answers("quarrel(3, 2, 0)", 32);
-        TestSentence.sentence(7, "the quarrel lasts in this bar and in all later ones ahead of the bar in which it ends, "
+        TestSentence.sentence(7,
+                "the quarrel lasts in this bar and in all later ones ahead of the bar in which it ends, "
                 + "or in all later ones if it does not end");
         house.and("quarrel(2, 3, 0)").answersEach("key(#)", 32, 0, 1, 7);
         house.and("quarrel(2, 3, 1)").answers("key(0)", 0).answersEach("key(#)", 32, 1, 2, 7);
@@ -273,10 +276,12 @@ public final class ChangeEdgeTests {
         house.answers("end(0, 1, 2)", 1).answers("end(0, 1, 3)", 2).answers("end(0, 1, 4)", 3)
                 .answersEach("end(0, 1, #)", 3, 5, 6, 7, 8).answers("end(1, 0, 3)", 2);
         TestRun.after("b", "quarrel(0, 1, 0)").answersEach("end(0, 1, #)", 1, 1, 2, 8);
-        eight().and("quarrel(0, 1, 0)").answers("end(0, 1, 7)", 7).answers("end(0, 1, 8)", 8).answers("end(0, 1, 1)", 1);
+        eight().and("quarrel(0, 1, 0)").answers("end(0, 1, 7)", 7).answers("end(0, 1, 8)", 8)
+                .answers("end(0, 1, 1)", 1);
         eight().and("quarrel(0, 1, 7)").answers("end(0, 1, 8)", 1);
         eight().and("quarrel(0, 1, 0)", "coda(0, 7)").answers("end(0, 1, 8)", 8);
-        TestSentence.sentence(8, "A quarrel ends in a bar behind the one in which it begins, which need not be there yet.");
+        TestSentence.sentence(8,
+                "A quarrel ends in a bar behind the one in which it begins, which need not be there yet.");
         TestRun later = house.and("end(0, 1, 6)").answersEach("key(#)", 1, 1, 3).answers("key(0)", 0);
         later.and(TestRun.bars(4)).answersEach("key(#)", 1, 1, 4, 5).answersEach("key(#)", 0, 0, 6, 7);
         house.and("end(0, 1, 8)", TestRun.bars(4)).answersEach("key(#)", 1, 1, 7).answers("end(0, 1, 8)", 7);
@@ -301,7 +306,8 @@ public final class ChangeEdgeTests {
     private static void endReasons() {
         TestRun house = TestRun.after(TestRun.bars(4), "quarrel(1, 0, 1)", "quarrel(2, 3, 0)");
         TestSentence.sentence(8, "`bar`: the bar, 0 to 8");
-        house.refusesEach("end(0, 1, #)", 1, 0, -1, 9, 10, MIN, MAX).answers("end(0, 1, 8)", 3).refuses("end(0, 1, 0)", 10, 1);
+        house.refusesEach("end(0, 1, #)", 1, 0, -1, 9, 10, MIN, MAX).answers("end(0, 1, 8)", 3)
+                .refuses("end(0, 1, 0)", 10, 1);
         TestSentence.sentence(8, "There are the sisters 0 to 3");
         house.refusesEach("end(#, 1, 3)", 1, 0, -1, 4, MIN, MAX).refusesEach("end(1, #, 3)", 1, 0, -1, 4, MIN, MAX);
         house.answers("end(3, 2, 1)", 1).answers("end(0, 1, 2)", 1);

@@ -34,7 +34,8 @@ public final class EmptyHouseTests {
         house.refusesEach("quarrel(0, 1, #)", 3, 0, 0, -1, 8, MIN, MAX);
         house.refusesEach("coda(#, 2)", 3, 0, 0, -1, 8, MIN, MAX);
         house.refusesEach("coda(0, #)", 3, 0, 0, -1, 2, 8, MIN, MAX);
-        TestSentence.sentence(1, 3, "Something is refused for the first that applies of the reasons that its method names");
+        TestSentence.sentence(1, 3,
+                "Something is refused for the first that applies of the reasons that its method names");
         house.refuses("step(4, 0, 0, 1)", 1, 0).refuses("step(0, 0, 5, 1)", 1, 0).refuses("step(0, 0, 0, 0)", 1, 0);
         house.refuses("rest(-1, 0, 1)", 1, 0).refuses("rest(0, 0, 5)", 1, 0);
         house.refuses("stair(0, 0, 4, 2, true)", 5, 4).refuses("stair(0, 0, 0, 2, false)", 5, 0);
@@ -101,11 +102,13 @@ public final class EmptyHouseTests {
         house.answers("append(98)", 1);
         TestSentence.sentence(1, 30, "Throws `IllegalArgumentException` if the text has a fault");
         house.faulty("", 0).faulty(";", 0).faulty("b;", 2);
-        TestSentence.sentence(1, 30, "Throws `UnsupportedOperationException` if a command is refused; the reason is kept");
+        TestSentence.sentence(1, 30,
+                "Throws `UnsupportedOperationException` if a command is refused; the reason is kept");
         house.refusesText("s00@0*1", 3, 0, 0).refusesText("n", 12, 0, 0).refusesText("e011", 9, 0, 0);
         TestSentence.sentence(1, 30, "Returns the number of commands.");
         house.tells("b", 1);
-        TestSentence.sentence(1, 31, "Returns the fault position, or -1 if that text had no fault or there was no such call.");
+        TestSentence.sentence(1, 31,
+                "Returns the fault position, or -1 if that text had no fault or there was no such call.");
         house.answers("faultPosition()", -1);
         TestSentence.sentence(1, 32, "Throws `NoSuchElementException` if nothing was refused");
         house.throwingEach("reason(#)", TestRun.ELEMENT, 0, 1, 2);

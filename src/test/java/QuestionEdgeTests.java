@@ -111,7 +111,8 @@ public final class QuestionEdgeTests {
                 .answersEach("floorAt(1, 0, #)", -1, 0, 7).answersEach("floorAt(0, 2, #)", -1, 0, 7);
         TestSentence.sentence(11, "Behind her last sign a sister is nowhere.");
         three().and("step(1, 1, 0, 1)").answersRow("floorAt(1, 1, #)", 0, -1, -1, -1, -1, -1, -1, -1);
-        three().and(walk(1, 1, 0, 0, 0, 0, 0, 0, 0)).answersEach("floorAt(1, 1, #)", 0, 0, 6).answers("floorAt(1, 1, 7)", -1);
+        three().and(walk(1, 1, 0, 0, 0, 0, 0, 0, 0)).answersEach("floorAt(1, 1, #)", 0, 0, 6)
+                .answers("floorAt(1, 1, 7)", -1);
         TestSentence.sentence(11, "A rest on tiptoe lasts for 1 to 4 beats, and does not sound.");
         three().and("rest(1, 1, 1)", "step(1, 1, 0, 1)", "rest(1, 1, 4)", "step(1, 1, 4, 1)", "rest(1, 1, 1)")
                 .answersRow("floorAt(1, 1, #)", -1, 0, -1, -1, -1, -1, 4, -1);
@@ -141,7 +142,8 @@ public final class QuestionEdgeTests {
     private static void sounding() {
         TestSentence.sentence(12, "Returns the set of them, bit k for the sister k.");
         for (int sister = 0; sister < 4; sister++) {
-            eight().and(stand(sister, 7, 4)).answersEach("sounding(7, #)", 1 << sister, 0, 7).answers("sounding(6, 7)", 0);
+            eight().and(stand(sister, 7, 4)).answersEach("sounding(7, #)", 1 << sister, 0, 7)
+                    .answers("sounding(6, 7)", 0);
         }
         TestRun all = three().and("step(0, 0, 0, 4)", "step(1, 0, 0, 3)", "step(2, 0, 4, 2)", "step(3, 0, 2, 1)");
         all.answersRow("sounding(0, #)", 15, 7, 3, 1, 0, 0, 0, 0).answersEach("sounding(1, #)", 0, 0, 7);
@@ -166,7 +168,8 @@ public final class QuestionEdgeTests {
     private static void signOf() {
         TestRun house = three().and("rest(1, 2, 1)", "step(1, 2, 4, 2)", "stair(1, 2, 0, 2, true)",
                 "stair(1, 2, 4, 2, false)", "step(1, 2, 0, 1)");
-        TestSentence.sentence(13, "0 for its kind, which is 0 for a step, 1 for a rest, 2 for a stair up and 3 for one down");
+        TestSentence.sentence(13,
+                "0 for its kind, which is 0 for a step, 1 for a rest, 2 for a stair up and 3 for one down");
         house.answersRow("signOf(1, 2, #, 0)", 1, 0, 2, 3, 0);
         TestSentence.sentence(13, "1 for its length");
         house.answersRow("signOf(1, 2, #, 1)", 1, 2, 2, 2, 1);
@@ -182,7 +185,8 @@ public final class QuestionEdgeTests {
                 "rest(0, 0, 1)").answersRow("signOf(0, 0, #, 3)", 0, -1, 1, 3, -1);
         TestSentence.sentence(13, "its place in her row, from 0");
         TestRun small = eight().and(walk(3, 7, 4, 3, 2, 1, 0, 1, 2, 4));
-        small.answersRow("signOf(3, 7, #, 3)", 4, 3, 2, 1, 0, 1, 2, 4).answersRow("signOf(3, 7, #, 2)", 0, 1, 2, 3, 4, 5, 6, 7);
+        small.answersRow("signOf(3, 7, #, 3)", 4, 3, 2, 1, 0, 1, 2, 4)
+                .answersRow("signOf(3, 7, #, 2)", 0, 1, 2, 3, 4, 5, 6, 7);
     }
 
     private static void signOfOutside() {
@@ -190,9 +194,11 @@ public final class QuestionEdgeTests {
         badSisters(lively(), "signOf(#, 0, 0, 0)");
         badBars(lively(), "signOf(0, #, 0, 0)");
         TestSentence.sentence(13, "Throws `NoSuchElementException` if there is no such place");
-        lively().answers("signOf(0, 0, 2, 1)", 1).throwingEach("signOf(0, 0, #, 1)", TestRun.ELEMENT, -1, 3, 7, 8, MIN, MAX);
+        lively().answers("signOf(0, 0, 2, 1)", 1).throwingEach("signOf(0, 0, #, 1)", TestRun.ELEMENT, -1, 3, 7, 8,
+                MIN, MAX);
         lively().answers("signOf(3, 2, 1, 1)", 4).throwingEach("signOf(3, 2, #, 3)", TestRun.ELEMENT, -1, 2, 8);
-        lively().throwingEach("signOf(1, 0, #, 0)", TestRun.ELEMENT, -1, 0, 1).throwing("signOf(0, 1, 0, 0)", TestRun.ELEMENT);
+        lively().throwingEach("signOf(1, 0, #, 0)", TestRun.ELEMENT, -1, 0, 1)
+                .throwing("signOf(0, 1, 0, 0)", TestRun.ELEMENT);
         eight().and(walk(3, 7, 4, 4, 4, 4, 4, 4, 4, 4)).answers("signOf(3, 7, 7, 3)", 4)
                 .throwingEach("signOf(3, 7, #, 3)", TestRun.ELEMENT, -1, 8, MAX);
         lively().and("takeBack(0, 0)").answers("signOf(0, 0, 1, 0)", 2).throwing("signOf(0, 0, 2, 0)", TestRun.ELEMENT);
@@ -218,7 +224,8 @@ public final class QuestionEdgeTests {
             row = row.and("step(3, 7, 4, 1)");
             row.answers("lacking(3, 7)", 8 - beats).answers("lacking(2, 7)", 8).answers("lacking(3, 6)", 8);
         }
-        lively().answers("lacking(0, 0)", 1).answers("lacking(3, 2)", 0).answers("lacking(3, 0)", 8).answers("lacking(0, 2)", 8);
+        lively().answers("lacking(0, 0)", 1).answers("lacking(3, 2)", 0).answers("lacking(3, 0)", 8)
+                .answers("lacking(0, 2)", 8);
         TestSentence.sentence(14, "a bar is full for a sister if they last for 8");
         house.and(restAll(0, 0)).answers("lacking(0, 0)", 0).and("takeBack(0, 0)").answers("lacking(0, 0)", 4);
         house.and("stair(0, 0, 0, 4, true)", "stair(0, 0, 0, 2, true)", "rest(0, 0, 1)").answers("lacking(0, 0)", 1)
@@ -248,7 +255,8 @@ public final class QuestionEdgeTests {
             mixed.answersRow(call, 10, 0, 0);
             lively().answersRow(call, 6, 0, 8);
             TestSentence.sentence(promise, "the beats in which a sister sounds, of all sisters together");
-            three().and("step(0, 0, 2, 1)", "step(1, 0, 2, 1)", "step(2, 0, 2, 1)", "step(3, 0, 2, 1)").answersRow(call, 4, 0, 0);
+            three().and("step(0, 0, 2, 1)", "step(1, 0, 2, 1)", "step(2, 0, 2, 1)", "step(3, 0, 2, 1)")
+                    .answersRow(call, 4, 0, 0);
             eight().and(walk(3, 7, 4, 4, 4, 4, 4, 4, 4, 4)).answersEach(call, 8, 7).answersEach(call, 0, 6);
             TestSentence.sentence(promise, "A rest on tiptoe lasts for 1 to 4 beats, and does not sound.");
             rests.answersRow(call, 0, 0, 0).and("takeBack(3, 1)", "step(3, 1, 0, 1)").answersRow(call, 0, 1, 0);
@@ -285,7 +293,8 @@ public final class QuestionEdgeTests {
         TestRun pairs = eight().and("quarrel(0, 1, 1)", "quarrel(2, 0, 2)", "quarrel(0, 3, 3)", "quarrel(2, 1, 4)",
                 "quarrel(3, 1, 5)", "quarrel(2, 3, 6)");
         pairs.answersRow("key(#)", 0, 1, 3, 7, 15, 31, 63, 63);
-        TestSentence.sentence(18, "the quarrel lasts in this bar and in all later ones ahead of the bar in which it ends, "
+        TestSentence.sentence(18,
+                "the quarrel lasts in this bar and in all later ones ahead of the bar in which it ends, "
                 + "or in all later ones if it does not end");
         pairs.and("end(0, 1, 2)", "end(2, 3, 7)", "end(0, 2, 8)").answersRow("key(#)", 0, 1, 2, 6, 14, 30, 62, 30);
         eight().and("quarrel(1, 3, 7)", "end(1, 3, 8)").answers("key(7)", 16).answers("key(6)", 0);
@@ -298,8 +307,10 @@ public final class QuestionEdgeTests {
     // ---- promises 19 and 20 ----
 
     private static void clashesInTwoWays() {
-        TestRun full = allQuarrel(eight().and(stand(0, 7, 4)).and(stand(1, 7, 4)).and(stand(2, 7, 4)).and(stand(3, 7, 4)), 7);
-        TestRun ends = three().and("quarrel(0, 1, 0)").and(walk(0, 0, 0, 1, 1, 1, 1, 1, 1, 4)).and(walk(1, 0, 0, 2, 2, 2, 2, 2, 2, 4));
+        TestRun full = allQuarrel(eight().and(stand(0, 7, 4)).and(stand(1, 7, 4)).and(stand(2, 7, 4))
+                .and(stand(3, 7, 4)), 7);
+        TestRun ends = three().and("quarrel(0, 1, 0)").and(walk(0, 0, 0, 1, 1, 1, 1, 1, 1, 4))
+                .and(walk(1, 0, 0, 2, 2, 2, 2, 2, 2, 4));
         String[] ways = {"clashes", "clashesAgain"};
         String[] told = {"Returns the clashes of a bar: beat by beat.",
             "Returns the same by a second way: pair by pair, by the sets of beats on each floor."};
@@ -308,14 +319,18 @@ public final class QuestionEdgeTests {
             String call = ways[way] + "(#)";
             TestSentence.sentence(promise, told[way]);
             ends.answersRow(call, 2, 0, 0).and("takeBack(0, 0)").answersRow(call, 1, 0, 0);
-            three().and("quarrel(0, 1, 0)").and(walk(0, 2, 0, 1, 2, 3, 4)).and(walk(1, 2, 0, 1, 2, 3, 4)).answersRow(call, 0, 0, 5);
+            three().and("quarrel(0, 1, 0)").and(walk(0, 2, 0, 1, 2, 3, 4)).and(walk(1, 2, 0, 1, 2, 3, 4))
+                    .answersRow(call, 0, 0, 5);
             three().and("quarrel(2, 3, 1)", "stair(2, 1, 0, 4, true)", "step(3, 1, 1, 4)").answersRow(call, 0, 2, 0);
-            TestSentence.sentence(promise, "in which two sisters who quarrel in it sound on one floor; each pair counts for itself");
+            TestSentence.sentence(promise,
+                    "in which two sisters who quarrel in it sound on one floor; each pair counts for itself");
             full.answersEach(call, 48, 7).answersEach(call, 0, 0, 6);
             full.and("takeBack(3, 7)").answersEach(call, 36, 7).and("undo()", "undo()").answersEach(call, 40, 7);
-            three().and(stand(0, 0, 2)).and(stand(1, 0, 2)).answersRow(call, 0, 0, 0).and("quarrel(0, 2, 0)").answersRow(call, 0, 0, 0)
+            three().and(stand(0, 0, 2)).and(stand(1, 0, 2)).answersRow(call, 0, 0, 0).and("quarrel(0, 2, 0)")
+                    .answersRow(call, 0, 0, 0)
                     .and("quarrel(1, 0, 0)").answersRow(call, 8, 0, 0);
-            TestSentence.sentence(promise, "the quarrel lasts in this bar and in all later ones ahead of the bar in which it ends");
+            TestSentence.sentence(promise,
+                    "the quarrel lasts in this bar and in all later ones ahead of the bar in which it ends");
             TestRun each = three().and("step(1, 0, 3, 1)", "step(3, 0, 3, 1)", "step(1, 1, 3, 2)", "step(3, 1, 3, 2)",
                     "step(1, 2, 3, 4)", "step(3, 2, 3, 4)", "quarrel(3, 1, 1)");
             each.answersRow(call, 0, 2, 4).and("end(1, 3, 2)").answersRow(call, 0, 2, 0);
@@ -360,16 +375,20 @@ public final class QuestionEdgeTests {
     // ---- promise 22 ----
 
     private static void fullest() {
-        TestSentence.sentence(22, "Returns the floor on which the most sisters sound in a beat, of several the lowest.");
+        TestSentence.sentence(22,
+                "Returns the floor on which the most sisters sound in a beat, of several the lowest.");
         for (int floor = 0; floor < 5; floor++) {
             eight().and("step(3, 7, " + floor + ", 1)").answers("fullest(7, 0)", floor);
         }
         TestRun two = three().and("step(0, 0, 4, 1)", "step(1, 0, 0, 1)");
         two.answers("fullest(0, 0)", 0).and("step(2, 0, 4, 1)").answers("fullest(0, 0)", 4)
                 .and("step(3, 0, 0, 1)").answers("fullest(0, 0)", 0);
-        three().and("step(0, 0, 3, 1)", "step(1, 0, 4, 1)", "step(2, 0, 1, 1)", "step(3, 0, 2, 1)").answers("fullest(0, 0)", 1);
-        three().and("step(0, 0, 3, 1)", "step(1, 0, 3, 1)", "step(2, 0, 3, 1)", "step(3, 0, 0, 1)").answers("fullest(0, 0)", 3);
-        three().and("step(0, 0, 4, 1)", "step(1, 0, 4, 1)", "step(2, 0, 4, 1)", "step(3, 0, 4, 1)").answers("fullest(0, 0)", 4);
+        three().and("step(0, 0, 3, 1)", "step(1, 0, 4, 1)", "step(2, 0, 1, 1)", "step(3, 0, 2, 1)")
+                .answers("fullest(0, 0)", 1);
+        three().and("step(0, 0, 3, 1)", "step(1, 0, 3, 1)", "step(2, 0, 3, 1)", "step(3, 0, 0, 1)")
+                .answers("fullest(0, 0)", 3);
+        three().and("step(0, 0, 4, 1)", "step(1, 0, 4, 1)", "step(2, 0, 4, 1)", "step(3, 0, 4, 1)")
+                .answers("fullest(0, 0)", 4);
         TestRun last = eight().and(walk(3, 7, 0, 0, 0, 0, 0, 0, 0, 2)).and(walk(1, 7, 0, 0, 0, 0, 0, 0, 0, 1));
         last.answers("fullest(7, 6)", 0).answers("fullest(7, 7)", 1).answers("fullest(7, 0)", 0);
         TestSentence.sentence(22, "Who is nowhere does not sound.");
@@ -438,7 +457,8 @@ public final class QuestionEdgeTests {
 
     private static void areAlike() {
         TestSentence.sentence(25, "whether in each beat she sounds in both, on the same floor, or in neither");
-        TestRun house = eight().and(walk(3, 0, 0, 4, 4, 4, 4, 4, 4, 2)).and("step(3, 7, 0, 1)", "step(3, 7, 4, 4)", "step(3, 7, 4, 2)");
+        TestRun house = eight().and(walk(3, 0, 0, 4, 4, 4, 4, 4, 4, 2))
+                .and("step(3, 7, 0, 1)", "step(3, 7, 4, 4)", "step(3, 7, 4, 2)");
         TestRun alike = house.and("step(3, 7, 2, 1)");
         alike.answers("areAlike(3, 0, 7)", true).answers("areAlike(3, 7, 0)", true).answers("areAlike(3, 0, 0)", true);
         house.answers("areAlike(3, 0, 7)", false).answers("areAlike(3, 7, 0)", false);
@@ -458,26 +478,32 @@ public final class QuestionEdgeTests {
         TestSentence.sentence(25, "Throws `IndexOutOfBoundsException` if there is no such sister or bar");
         badSisters(lively(), "areAlike(#, 0, 1)", "areAlike(#, 0, 0)");
         badBars(lively(), "areAlike(0, #, 1)", "areAlike(0, 1, #)", "areAlike(0, #, #)");
-        eight().throwingEach("areAlike(0, 0, #)", TestRun.INDEX, -1, 8).throwingEach("areAlike(0, #, 0)", TestRun.INDEX, -1, 8);
+        eight().throwingEach("areAlike(0, 0, #)", TestRun.INDEX, -1, 8)
+                .throwingEach("areAlike(0, #, 0)", TestRun.INDEX, -1, 8);
     }
 
     // ---- promise 26 ----
 
     private static void wouldClash() {
-        TestSentence.sentence(26, "Returns the clashes that a bar would have if all signs of a sister in it were higher by some floors.");
+        TestSentence.sentence(26,
+                "Returns the clashes that a bar would have if all signs of a sister in it were higher by some floors.");
         TestRun far = three().and("quarrel(0, 1, 0)").and(stand(0, 0, 0)).and(stand(1, 0, 4));
         far.answersRow("wouldClash(0, 0, #)", 0, 0, 0, 0, 8).answersRow("wouldClash(1, 0, -#)", 0, 0, 0, 0, 8);
         far.answersRow("wouldClash(2, 0, #)", 0, 0, 0, 0, 0).answersEach("wouldClash(0, 1, #)", 0, -4, 4);
-        TestRun all = allQuarrel(eight(), 0).and(stand(0, 7, 2)).and(stand(1, 7, 2)).and(stand(2, 7, 2)).and(stand(3, 7, 2));
+        TestRun all = allQuarrel(eight(), 0).and(stand(0, 7, 2)).and(stand(1, 7, 2)).and(stand(2, 7, 2))
+                .and(stand(3, 7, 2));
         all.answersEach("wouldClash(#, 7, 0)", 48, 0, 1, 2, 3).answersEach("wouldClash(#, 7, -2)", 24, 0, 3)
                 .answersEach("wouldClash(#, 7, 2)", 24, 0, 3).answers("clashes(7)", 48);
-        TestRun beats = three().and("quarrel(2, 3, 0)").and(walk(2, 0, 1, 2, 2, 2, 2, 2, 2, 3)).and(walk(3, 0, 2, 1, 1, 1, 1, 1, 1, 4));
+        TestRun beats = three().and("quarrel(2, 3, 0)").and(walk(2, 0, 1, 2, 2, 2, 2, 2, 2, 3))
+                .and(walk(3, 0, 2, 1, 1, 1, 1, 1, 1, 4));
         beats.answers("wouldClash(2, 0, 1)", 2).answers("wouldClash(2, 0, -1)", 6).answers("wouldClash(2, 0, 0)", 0);
         beats.answers("wouldClash(3, 0, -1)", 2).answersEach("wouldClash(3, 0, #)", 0, 0);
         TestRun stairs = three().and("quarrel(0, 3, 0)", "stair(0, 0, 1, 4, true)", "step(3, 0, 3, 4)");
         stairs.answers("wouldClash(0, 0, 1)", 2).answers("wouldClash(0, 0, 2)", 2).answers("wouldClash(0, 0, 0)", 0)
-                .answers("wouldClash(3, 0, -1)", 2).answers("wouldClash(3, 0, -2)", 2).answers("wouldClash(3, 0, -3)", 0);
-        TestSentence.sentence(26, "the quarrel lasts in this bar and in all later ones ahead of the bar in which it ends");
+                .answers("wouldClash(3, 0, -1)", 2).answers("wouldClash(3, 0, -2)", 2)
+                .answers("wouldClash(3, 0, -3)", 0);
+        TestSentence.sentence(26,
+                "the quarrel lasts in this bar and in all later ones ahead of the bar in which it ends");
         TestRun bars = three().and("quarrel(0, 1, 1)", "end(0, 1, 2)");
         for (int bar = 0; bar < 3; bar++) {
             bars = bars.and("step(0, " + bar + ", 0, 4)", "step(1, " + bar + ", 1, 4)");
@@ -504,15 +530,21 @@ public final class QuestionEdgeTests {
         lively().throwingEach("wouldClash(0, 0, #)", TestRun.ARGUMENT, -5, 5, MIN, MAX)
                 .throwingEach("wouldClash(1, 1, #)", TestRun.ARGUMENT, -5, 5, MIN, MAX);
         TestSentence.sentence(26, "Throws `NoSuchElementException` if one of them would leave the house");
-        TestRun house = three().and("step(0, 0, 0, 1)", "step(1, 0, 4, 1)", "stair(2, 0, 3, 2, true)", "stair(3, 0, 1, 2, false)");
-        house.answersEach("wouldClash(0, 0, #)", 0, 0, 1, 4).throwingEach("wouldClash(0, 0, #)", TestRun.ELEMENT, -4, -1);
-        house.answersEach("wouldClash(1, 0, #)", 0, 0, -1, -4).throwingEach("wouldClash(1, 0, #)", TestRun.ELEMENT, 4, 1);
-        house.answersEach("wouldClash(2, 0, #)", 0, 0, -1, -3).throwingEach("wouldClash(2, 0, #)", TestRun.ELEMENT, 4, 1, -4);
-        house.answersEach("wouldClash(3, 0, #)", 0, 0, 1, 3).throwingEach("wouldClash(3, 0, #)", TestRun.ELEMENT, -4, -1, 4);
+        TestRun house = three().and("step(0, 0, 0, 1)", "step(1, 0, 4, 1)", "stair(2, 0, 3, 2, true)",
+                "stair(3, 0, 1, 2, false)");
+        house.answersEach("wouldClash(0, 0, #)", 0, 0, 1, 4)
+                .throwingEach("wouldClash(0, 0, #)", TestRun.ELEMENT, -4, -1);
+        house.answersEach("wouldClash(1, 0, #)", 0, 0, -1, -4)
+                .throwingEach("wouldClash(1, 0, #)", TestRun.ELEMENT, 4, 1);
+        house.answersEach("wouldClash(2, 0, #)", 0, 0, -1, -3)
+                .throwingEach("wouldClash(2, 0, #)", TestRun.ELEMENT, 4, 1, -4);
+        house.answersEach("wouldClash(3, 0, #)", 0, 0, 1, 3)
+                .throwingEach("wouldClash(3, 0, #)", TestRun.ELEMENT, -4, -1, 4);
         TestRun one = eight().and(walk(3, 7, 1, 2, 2, 2, 2, 2, 2, 3));
         one.answersEach("wouldClash(3, 7, #)", 0, -1, 0, 1).throwingEach("wouldClash(3, 7, #)", TestRun.ELEMENT, -2, 2);
         TestRun back = eight().and(walk(3, 7, 3, 2, 2, 2, 2, 2, 2, 1));
-        back.answersEach("wouldClash(3, 7, #)", 0, -1, 0, 1).throwingEach("wouldClash(3, 7, #)", TestRun.ELEMENT, -2, 2);
+        back.answersEach("wouldClash(3, 7, #)", 0, -1, 0, 1)
+                .throwingEach("wouldClash(3, 7, #)", TestRun.ELEMENT, -2, 2);
         TestSentence.sentence(26, "If several conditions of a method are fulfilled, the one that is listed first "
                 + "determines the exception.");
         badSisters(house, "wouldClash(#, 0, 5)", "wouldClash(#, 3, -5)", "wouldClash(#, 0, 4)");
@@ -534,10 +566,12 @@ public final class QuestionEdgeTests {
         three().and("quarrel(0, 1, 0)").and(stand(0, 0, 3)).and(walk(1, 0, 1, 2, 3, 4)).answers("bestShift(0, 0)", -3);
         three().and("quarrel(0, 1, 0)").and(stand(0, 0, 2)).and(walk(1, 0, 0, 1, 2, 3)).answers("bestShift(0, 0)", 2);
         three().and("quarrel(0, 1, 0)").and(stand(0, 0, 2)).and(walk(1, 0, 1, 2, 3, 4)).answers("bestShift(0, 0)", -2);
-        TestRun fewest = three().and("quarrel(0, 1, 0)", "quarrel(0, 2, 0)").and(stand(0, 0, 0)).and(walk(1, 0, 0, 0, 0, 1, 1, 2, 3, 3))
+        TestRun fewest = three().and("quarrel(0, 1, 0)", "quarrel(0, 2, 0)").and(stand(0, 0, 0))
+                .and(walk(1, 0, 0, 0, 0, 1, 1, 2, 3, 3))
                 .and(stand(2, 0, 4));
         fewest.answers("bestShift(0, 0)", 2).answers("wouldClash(0, 0, 2)", 1);
-        three().and("quarrel(0, 1, 0)").and(stand(0, 0, 0)).and(walk(1, 0, 0, 0, 0, 2, 2, 3, 3, 1)).and("quarrel(0, 3, 0)")
+        three().and("quarrel(0, 1, 0)").and(stand(0, 0, 0)).and(walk(1, 0, 0, 0, 0, 2, 2, 3, 3, 1))
+                .and("quarrel(0, 3, 0)")
                 .and(stand(3, 0, 4)).answers("bestShift(0, 0)", 1);
         TestSentence.sentence(27, "Behind her last sign a sister is nowhere.");
         allQuarrel(three(), 0).answersEach("bestShift(#, 0)", 0, 0, 1, 2, 3);
@@ -545,7 +579,8 @@ public final class QuestionEdgeTests {
         others.answersEach("bestShift(#, 0)", 0, 0, 3).and(restAll(0, 0)).answers("bestShift(0, 0)", 0);
         TestSentence.sentence(27, "a beat of a bar in which two sisters who quarrel in it sound on one floor");
         TestRun apart = three().and(stand(0, 0, 2)).and(stand(1, 0, 2)).and("quarrel(0, 1, 1)");
-        apart.answersRow("bestShift(0, #)", 0, 0, 0).and(stand(0, 1, 2)).and(stand(1, 1, 2)).answersRow("bestShift(0, #)", 0, -1, 0);
+        apart.answersRow("bestShift(0, #)", 0, 0, 0).and(stand(0, 1, 2)).and(stand(1, 1, 2))
+                .answersRow("bestShift(0, #)", 0, -1, 0);
     }
 
     private static void bestShiftTies() {
@@ -554,7 +589,8 @@ public final class QuestionEdgeTests {
             TestRun both = eight().and("quarrel(0, 1, 7)").and(stand(0, 7, 2)).and(stand(1, 7, 2));
             both.answers("bestShift(" + sister + ", 7)", -1);
         }
-        TestRun middle = three().and("quarrel(0, 1, 0)", "quarrel(0, 2, 0)", "quarrel(0, 3, 0)").and(stand(0, 0, 2)).and(stand(1, 0, 2));
+        TestRun middle = three().and("quarrel(0, 1, 0)", "quarrel(0, 2, 0)", "quarrel(0, 3, 0)").and(stand(0, 0, 2))
+                .and(stand(1, 0, 2));
         middle.and(stand(2, 0, 1)).answers("bestShift(0, 0)", 1).and(stand(3, 0, 3)).answers("bestShift(0, 0)", -2);
         middle.and(stand(2, 0, 3)).answers("bestShift(0, 0)", -1);
         TestRun clear = three().and("quarrel(0, 1, 0)").and(stand(0, 0, 2)).and(stand(1, 0, 1));
@@ -576,10 +612,14 @@ public final class QuestionEdgeTests {
         high.answers("bestShift(0, 0)", -1).answers("bestShift(1, 0)", -1);
         TestRun wide = three().and("quarrel(0, 1, 0)").and(walk(0, 0, 0, 2, 2, 2, 2, 2, 2, 4)).and(stand(1, 0, 2));
         wide.answers("bestShift(0, 0)", 0).answers("clashes(0)", 6);
-        TestRun stairUp = three().and("quarrel(0, 1, 0)", "stair(0, 0, 3, 2, true)", "step(1, 0, 3, 1)", "step(1, 0, 4, 1)");
-        stairUp.answers("bestShift(0, 0)", -1).and("quarrel(0, 2, 0)", "step(2, 0, 2, 1)").answers("bestShift(0, 0)", -2);
-        TestRun stairDown = three().and("quarrel(0, 1, 0)", "stair(0, 0, 1, 2, false)", "step(1, 0, 1, 1)", "step(1, 0, 0, 1)");
-        stairDown.answers("bestShift(0, 0)", 1).and("quarrel(0, 2, 0)", "step(2, 0, 2, 1)").answers("bestShift(0, 0)", 2);
+        TestRun stairUp = three().and("quarrel(0, 1, 0)", "stair(0, 0, 3, 2, true)", "step(1, 0, 3, 1)",
+                "step(1, 0, 4, 1)");
+        stairUp.answers("bestShift(0, 0)", -1).and("quarrel(0, 2, 0)", "step(2, 0, 2, 1)")
+                .answers("bestShift(0, 0)", -2);
+        TestRun stairDown = three().and("quarrel(0, 1, 0)", "stair(0, 0, 1, 2, false)", "step(1, 0, 1, 1)",
+                "step(1, 0, 0, 1)");
+        stairDown.answers("bestShift(0, 0)", 1).and("quarrel(0, 2, 0)", "step(2, 0, 2, 1)")
+                .answers("bestShift(0, 0)", 2);
         TestSentence.sentence(27, "Throws `IndexOutOfBoundsException` if there is no such sister or bar");
         badSisters(lively(), "bestShift(#, 0)", "bestShift(#, 3)");
         badBars(lively(), "bestShift(0, #)", "bestShift(3, #)");
@@ -590,9 +630,11 @@ public final class QuestionEdgeTests {
 
     /** Four bars, whose steps are 9 0 6 6, clashes 1 0 3 2, lacked beats 23 12 22 26, pairs 1 3 3 1. */
     private static TestRun measured() {
-        return TestRun.after(TestRun.bars(4)).and(stand(0, 0, 2)).and("step(1, 0, 2, 1)", "rest(0, 1, 4)").and(restAll(1, 1))
+        return TestRun.after(TestRun.bars(4)).and(stand(0, 0, 2)).and("step(1, 0, 2, 1)", "rest(0, 1, 4)")
+                .and(restAll(1, 1))
                 .and(restAll(2, 1)).and("step(0, 2, 2, 3)", "step(1, 2, 2, 3)", "rest(3, 2, 4)", "step(0, 3, 2, 4)",
-                "step(2, 3, 2, 2)", "quarrel(0, 1, 0)", "end(0, 1, 3)", "quarrel(0, 2, 1)", "quarrel(2, 3, 1)", "end(2, 3, 3)");
+                "step(2, 3, 2, 2)", "quarrel(0, 1, 0)", "end(0, 1, 3)", "quarrel(0, 2, 1)", "quarrel(2, 3, 1)",
+                "end(2, 3, 3)");
     }
 
     private static void ranked() {
@@ -603,7 +645,8 @@ public final class QuestionEdgeTests {
             TestRun.after("b").answers("ranked(" + measure + ", 0)", 0);
         }
         eight().and("step(3, 7, 4, 1)").answersRow("ranked(0, #)", 7, 0, 1, 2, 3, 4, 5, 6);
-        eight().and("step(3, 7, 4, 1)", "step(0, 6, 4, 1)", "step(1, 1, 0, 1)").answersRow("ranked(0, #)", 1, 6, 7, 0, 2, 3, 4, 5);
+        eight().and("step(3, 7, 4, 1)", "step(0, 6, 4, 1)", "step(1, 1, 0, 1)")
+                .answersRow("ranked(0, #)", 1, 6, 7, 0, 2, 3, 4, 5);
         TestRun rising = eight();
         for (int bar = 0; bar < 8; bar++) {
             rising = rising.and(walk(0, bar, new int[bar + 1]));
@@ -618,7 +661,8 @@ public final class QuestionEdgeTests {
         full.answersRow("ranked(2, #)", 0, 2, 1).answersRow("ranked(0, #)", 1, 0, 2);
         TestSentence.sentence(28, "3 for the pairs in its key");
         measured().answersRow("key(#)", 1, 35, 35, 2).answersRow("ranked(3, #)", 1, 2, 0, 3);
-        three().and("quarrel(2, 3, 0)", "end(2, 3, 1)", "quarrel(0, 1, 1)", "quarrel(0, 2, 1)").answersRow("ranked(3, #)", 1, 2, 0);
+        three().and("quarrel(2, 3, 0)", "end(2, 3, 1)", "quarrel(0, 1, 1)", "quarrel(0, 2, 1)")
+                .answersRow("ranked(3, #)", 1, 2, 0);
         allQuarrel(eight(), 7).answersRow("ranked(3, #)", 7, 0, 1, 2, 3, 4, 5, 6);
         TestSentence.sentence(28, "a later bar than the next one; then the bars between are not played");
         measured().and("coda(0, 3)").answersRow("ranked(0, #)", 0, 2, 3, 1).answersRow("ranked(1, #)", 2, 3, 0, 1);
@@ -626,7 +670,8 @@ public final class QuestionEdgeTests {
 
     private static void rankedOutside() {
         TestSentence.sentence(28, "Throws `IllegalArgumentException` if there is no such measure");
-        lively().throwingEach("ranked(#, 0)", TestRun.ARGUMENT, -1, 4, MIN, MAX).throwingEach("ranked(#, 2)", TestRun.ARGUMENT, -1, 4);
+        lively().throwingEach("ranked(#, 0)", TestRun.ARGUMENT, -1, 4, MIN, MAX)
+                .throwingEach("ranked(#, 2)", TestRun.ARGUMENT, -1, 4);
         TestSentence.sentence(28, "Throws `NoSuchElementException` if there is no such place");
         for (int measure = 0; measure < 4; measure++) {
             lively().throwingEach("ranked(" + measure + ", #)", TestRun.ELEMENT, -1, 3, 8, MIN, MAX);
@@ -634,7 +679,8 @@ public final class QuestionEdgeTests {
         }
         TestSentence.sentence(28, "If several conditions of a method are fulfilled, the one that is listed first "
                 + "determines the exception.");
-        lively().throwingEach("ranked(#, 3)", TestRun.ARGUMENT, -1, 4, MIN, MAX).throwingEach("ranked(#, -1)", TestRun.ARGUMENT, -1, 4);
+        lively().throwingEach("ranked(#, 3)", TestRun.ARGUMENT, -1, 4, MIN, MAX)
+                .throwingEach("ranked(#, -1)", TestRun.ARGUMENT, -1, 4);
     }
 
     // ---- all of them ----
@@ -643,8 +689,10 @@ public final class QuestionEdgeTests {
         TestRun house = lively().and("save()", "!noCoda()", "coda(0, 2)", "undo()", "bar()", "quarrel(0, 2, 0)", "!b;",
                 "line(0, 0)", "append(98)");
         String[] calls = {"floorAt(0, 0, 0)", "sounding(0, 0)", "signOf(0, 0, 1, 2)", "lacking(0, 0)", "steps(0)",
-            "stepsAgain(2)", "stepsOf(0)", "key(0)", "clashes(0)", "clashesAgain(0)", "beatsOn(3, 2, 0)", "fullest(0, 0)",
-            "played(1)", "playedSteps()", "areAlike(0, 0, 2)", "wouldClash(0, 0, 1)", "bestShift(0, 0)", "ranked(2, 1)"};
+            "stepsAgain(2)", "stepsOf(0)", "key(0)", "clashes(0)", "clashesAgain(0)", "beatsOn(3, 2, 0)",
+            "fullest(0, 0)",
+            "played(1)", "playedSteps()", "areAlike(0, 0, 2)", "wouldClash(0, 0, 1)", "bestShift(0, 0)",
+            "ranked(2, 1)"};
         for (int number = 0; number < calls.length; number++) {
             TestSentence.sentence(11 + number, "What can be undone are the successful calls of bar, step, rest, stair, "
                     + "takeBack, quarrel, end, coda, noCoda and commands.");

@@ -5,7 +5,8 @@ public final class TextEdgeTests {
     private static final String DIGITS = "0123456789";
 
     /** A text of each kind of command. */
-    private static final String[] COMMANDS = {"b", "s00@1*1", "r00*1", "u00@1*2", "d00@1*2", "x00", "q010", "e011", "c0>2", "n"};
+    private static final String[] COMMANDS = {"b", "s00@1*1", "r00*1", "u00@1*2", "d00@1*2", "x00", "q010", "e011",
+        "c0>2", "n"};
     private static final String LETTERS = "bsrudxqecn";
 
     private TextEdgeTests() {
@@ -62,9 +63,11 @@ public final class TextEdgeTests {
         house.answers("account(10)", 60);
         TestSentence.sentence(29, "Appends a character to the text buffer.");
         three().and(TestRun.typed("c0>2")).answers("commands()", 1).and("commands()").answers("account(7)", 2);
-        three().answersEach("append(#)", 1, 0, 1, 32, 127, 128, 255, 256, 65535).and("append(0)").answers("append(98)", 2);
+        three().answersEach("append(#)", 1, 0, 1, 32, 127, 128, 255, 256, 65535).and("append(0)")
+                .answers("append(98)", 2);
         three().and("append(98)", "append(65535)").throwing("character(0)", TestRun.INDEX);
-        TestSentence.sentence(29, "The text buffer, the fault position, the reason and the line do not belong to it, and stay.");
+        TestSentence.sentence(29,
+                "The text buffer, the fault position, the reason and the line do not belong to it, and stay.");
         three().and("append(98)", "undo()").answers("append(98)", 2).and("append(98)").answers("commands()",
                 "throws.IllegalArgumentException");
         three().and("save()", "append(98)", "restore()").answers("append(98)", 2).answers("commands()", 1);
@@ -93,7 +96,8 @@ public final class TextEdgeTests {
         eachDigit(house, "s##@#*#", "step(#, #, #, #)", 0, 0, 2, 1);
         TestSentence.sentence(30, "\"r\", a sister, a bar, \"*\" and a length adds a rest");
         eachDigit(house, "r##*#", "rest(#, #, #)", 0, 0, 1);
-        TestSentence.sentence(30, "\"u\" or \"d\", a sister, a bar, \"@\" and a floor, \"*\" and a length adds a stair up or down");
+        TestSentence.sentence(30,
+                "\"u\" or \"d\", a sister, a bar, \"@\" and a floor, \"*\" and a length adds a stair up or down");
         eachDigit(house, "u##@#*#", "stair(#, #, #, #, true)", 1, 2, 3, 4);
         eachDigit(house, "d##@#*#", "stair(#, #, #, #, false)", 1, 2, 1, 2);
         TestSentence.sentence(30, "\"x\", a sister and a bar takes her last sign there away");
@@ -147,7 +151,8 @@ public final class TextEdgeTests {
                 .isAs(TestRun.after("b;b;b;s02@1*4;u02@1*2", "q230;e231;c0>2", "undo()", "undo()",
                         "b;b;b;s02@1*4;u02@1*2;r02*2;x02;q230;e231;c0>2"));
         TestRun.after("b;b;b;s02@1*4;u02@1*2;r02*2;x02;q230;e231;c0>2").holdsAs(three().and("step(0, 2, 1, 4)",
-                "stair(0, 2, 1, 2, true)", "rest(0, 2, 2)", "takeBack(0, 2)", "quarrel(2, 3, 0)", "end(2, 3, 1)", "coda(0, 2)"));
+                "stair(0, 2, 1, 2, true)", "rest(0, 2, 2)", "takeBack(0, 2)", "quarrel(2, 3, 0)", "end(2, 3, 1)",
+                "coda(0, 2)"));
         TestRun.after().refusesText("b;s00@1*4;s00@1*4;x00;x00;x00", 6, 0, 5);
     }
 
@@ -156,7 +161,8 @@ public final class TextEdgeTests {
         TestRun house = lively();
         house.refusesText("b;b;s13@0*1;q123;e128;x00;c1>4;c2>4;n;n", 12, 0, 9);
         house.refusesText("x00;x00;x00;x00", 6, 0, 3).refusesText("b;b;b;b;b;b", 2, 8, 5);
-        house.refusesText("s00@0*1;s00@0*1", 4, 0, 1).refusesText("q120;q210", 8, 0, 1).refusesText("e031;e030", 10, 0, 1);
+        house.refusesText("s00@0*1;s00@0*1", 4, 0, 1).refusesText("q120;q210", 8, 0, 1)
+                .refusesText("e031;e030", 10, 0, 1);
         house.refusesText("n;n", 12, 0, 1).refusesText("u10@1*4;d10@0*4", 5, 0, 1).refusesText("b;c1>3;c2>3", 11, 3, 2);
         house.refusesText("r10*4;r10*4;r10*1", 4, 0, 2).refusesText("b;s03@0*1;s04@0*1", 3, 4, 2);
         house.and("undo()", "undo()").refusesText("b;n", 12, 0, 1);
@@ -174,7 +180,8 @@ public final class TextEdgeTests {
 
     private static void commandsEmptyBuffer() {
         TestSentence.sentence(30, "The buffer is empty afterwards, also if an exception is thrown.");
-        TestRun[] texts = {three().and("b"), three().and("!b;"), three().and("!n"), three().and("!b;n;b"), three().and("!y")};
+        TestRun[] texts = {three().and("b"), three().and("!b;"), three().and("!n"), three().and("!b;n;b"),
+            three().and("!y")};
         for (TestRun told : texts) {
             told.answers("account(10)", 0).answers("append(98)", 1).and("append(98)").answers("commands()", 1);
             told.faulty("", 0).tells("b", 1);
@@ -193,7 +200,8 @@ public final class TextEdgeTests {
         house.refusesText("q220", 7, 2, 0).refusesText("q301", 8, 0, 0).refusesText("e120", 9, 0, 0);
         house.refusesText("e030", 10, 0, 0).refusesText("e039", 1, 0, 0).refusesText("c1>2", 11, 2, 0);
         eight().refusesText("b", 2, 8, 0).refusesText("n", 12, 0, 0).refusesText("c8>9", 3, 8, 0);
-        TestSentence.sentence(30, "The reason is kept with the index of the command of a text, from 0, or 0 for another call.");
+        TestSentence.sentence(30,
+                "The reason is kept with the index of the command of a text, from 0, or 0 for another call.");
         eight().refusesText("c0>2;n;c0>2;n;c0>2;n;c0>2;n;c0>2;n;c0>2;n;c0>2;n;c0>2;n;n", 12, 0, 16);
         TestRun.after().refusesText(TestRun.bars(9), 2, 8, 8).refusesText("b;b;s02@0*1;n;n", 3, 2, 2);
         TestRun.after().refusesText(TestRun.bars(30), 2, 8, 8);
@@ -223,7 +231,8 @@ public final class TextEdgeTests {
     }
 
     private static void faultsByPlace() {
-        TestSentence.sentence(31, "The fault position of a text is the index of its first character that cannot continue such a text");
+        TestSentence.sentence(31,
+                "The fault position of a text is the index of its first character that cannot continue such a text");
         for (String command : COMMANDS) {
             for (int place = 0; place <= command.length(); place++) {
                 for (int character = 0; character <= 300; character++) {
@@ -236,9 +245,11 @@ public final class TextEdgeTests {
             }
         }
         TestSentence.sentence(31, "All numbers have one digit.");
-        three().faultOf("s000@1*1", 3).faultOf("s00@01*1", 5).faultOf("s00@1*01", 7).faultOf("r00*10", 5).faultOf("q0100", 4)
+        three().faultOf("s000@1*1", 3).faultOf("s00@01*1", 5).faultOf("s00@1*01", 7).faultOf("r00*10", 5)
+                .faultOf("q0100", 4)
                 .faultOf("c00>2", 2).faultOf("c0>02", 4).faultOf("x000", 3).faultOf("x-10", 1).faultOf("c0>-1", 3);
-        three().faultOf("s99@9*9", -1).faultOf("q999", -1).faultOf("e999", -1).faultOf("c9>9", -1).faultOf("u99@9*9", -1);
+        three().faultOf("s99@9*9", -1).faultOf("q999", -1).faultOf("e999", -1).faultOf("c9>9", -1)
+                .faultOf("u99@9*9", -1);
     }
 
     /** The character behind the first ones of the command, which are no fault. */
@@ -259,11 +270,14 @@ public final class TextEdgeTests {
         lively().faulty("", 0);
         for (String command : COMMANDS) {
             for (int length = 1; length < command.length(); length++) {
-                three().faultOf(command.substring(0, length), length).faultOf("b;" + command.substring(0, length), length + 2);
+                three().faultOf(command.substring(0, length), length)
+                        .faultOf("b;" + command.substring(0, length), length + 2);
             }
-            three().faultOf(command + ";", command.length() + 1).faultOf(command, -1).faultOf("b;" + command + ";b", -1);
+            three().faultOf(command + ";", command.length() + 1).faultOf(command, -1)
+                    .faultOf("b;" + command + ";b", -1);
         }
-        TestRun.after().faulty("b;".repeat(30), 60).faulty("b;".repeat(29) + "c0", 60).faulty("b;".repeat(29) + "s", 59);
+        TestRun.after().faulty("b;".repeat(30), 60).faulty("b;".repeat(29) + "c0", 60)
+                .faulty("b;".repeat(29) + "s", 59);
         TestRun.after().faultOf("b;".repeat(29) + "bb", 59).faultOf("b;".repeat(29) + "n", -1);
     }
 
@@ -273,12 +287,14 @@ public final class TextEdgeTests {
                 .faulty("b ", 1).faulty("b; b", 2).faulty("b:b", 1);
         lively().faulty("bn", 1).faulty("nb", 1).faulty("x00x00", 3).faulty("c0>2n", 4).faulty("s00@1*1r00*1", 7);
         TestSentence.sentence(31, "is the index of its first character that cannot continue such a text");
-        lively().faulty("b;y;z", 2).faulty("s00@1*1;s00#1*1;s00", 11).faulty("q01;q01;", 3).faulty("e0a1b", 2).faulty("B", 0);
+        lively().faulty("b;y;z", 2).faulty("s00@1*1;s00#1*1;s00", 11).faulty("q01;q01;", 3).faulty("e0a1b", 2)
+                .faulty("B", 0);
         lively().faulty("u00^1*2", 3).faulty("d00@1^2", 5).faulty("r00@1*1", 3).faulty("c0<2", 2).faulty("c0-2", 2);
     }
 
     private static void faultsOfTheLatest() {
-        TestSentence.sentence(31, "Returns the fault position, or -1 if that text had no fault or there was no such call.");
+        TestSentence.sentence(31,
+                "Returns the fault position, or -1 if that text had no fault or there was no such call.");
         three().answers("faultPosition()", -1);
         TestRun.after().answers("faultPosition()", -1).and(TestRun.typed("b;;")).answers("faultPosition()", -1);
         TestRun.after("!b;").answers("faultPosition()", 2).and("b").answers("faultPosition()", -1);
@@ -289,7 +305,8 @@ public final class TextEdgeTests {
         faulty.answers("faultPosition()", 3).and(TestRun.typed("b;y")).answers("faultPosition()", 3);
         faulty.and("bar()", "!noCoda()", "!step(9, 9, 9, 9)").answers("faultPosition()", 3);
         faulty.and("!y").answers("faultPosition()", 0);
-        TestSentence.sentence(31, "The text buffer, the fault position, the reason and the line do not belong to it, and stay.");
+        TestSentence.sentence(31,
+                "The text buffer, the fault position, the reason and the line do not belong to it, and stay.");
         faulty.and("undo()").answers("faultPosition()", 3).and("restore()").answers("faultPosition()", 3);
         TestRun.after("b", "!y", "b", "undo()").answers("faultPosition()", -1);
         TestRun.after("b", "!y", "save()", "b", "restore()").answers("faultPosition()", -1);
@@ -323,8 +340,10 @@ public final class TextEdgeTests {
         TestSentence.sentence(32, "Returns a number of the reason that is kept.");
         refused.and("b", "step(0, 0, 0, 1)", "!floorAt(4, 0, 0)", "!y", "!reason(3)").answersRow("reason(#)", 6, 2, 3);
         refused.and("!played(9)", "!restore()", "!ranked(4, 0)", "!character(0)").answersRow("reason(#)", 6, 2, 3);
-        TestSentence.sentence(32, "The text buffer, the fault position, the reason and the line do not belong to it, and stay.");
-        refused.and("save()", "undo()").answersRow("reason(#)", 6, 2, 3).and("restore()").answersRow("reason(#)", 6, 2, 3);
+        TestSentence.sentence(32,
+                "The text buffer, the fault position, the reason and the line do not belong to it, and stay.");
+        refused.and("save()", "undo()").answersRow("reason(#)", 6, 2, 3).and("restore()")
+                .answersRow("reason(#)", 6, 2, 3);
         TestRun.after("save()", "b", "!n", "undo()").answersRow("reason(#)", 12, 0, 0);
         TestRun.after("save()", "b", "!n", "restore()").answersRow("reason(#)", 12, 0, 0);
     }
@@ -346,20 +365,25 @@ public final class TextEdgeTests {
     // ---- promise 33 ----
 
     private static void line() {
-        TestSentence.sentence(33, "for each step its floor, for each rest \".\", for each stair its floor and \"^\" for up "
-                + "or \"v\" for down, each with \"*\" and its length behind, with a blank between two; as in \"2*4 .*1 0^*2\"");
+        TestSentence.sentence(33,
+                "for each step its floor, for each rest \".\", for each stair its floor and \"^\" for up "
+                + "or \"v\" for down, each with \"*\" and its length behind, with a blank between two; "
+                + "as in \"2*4 .*1 0^*2\"");
         three().and("s00@2*4;r00*1;u00@0*2").writes("line(0, 0)", "2*4 .*1 0^*2").answers("line(0, 0)", 12);
         for (int floor = 0; floor < 5; floor++) {
             eight().and("step(3, 7, " + floor + ", 4)").writes("line(3, 7)", floor + "*4").writes("line(3, 6)", "");
         }
         eight().and("stair(3, 7, 3, 4, true)", "stair(3, 7, 4, 4, false)").writes("line(3, 7)", "3^*4 4v*4");
-        eight().and("stair(0, 0, 0, 2, true)", "stair(0, 0, 1, 2, false)", "stair(0, 0, 3, 2, true)", "stair(0, 0, 4, 2, false)")
+        eight().and("stair(0, 0, 0, 2, true)", "stair(0, 0, 1, 2, false)", "stair(0, 0, 3, 2, true)",
+                "stair(0, 0, 4, 2, false)")
                 .writes("line(0, 0)", "0^*2 1v*2 3^*2 4v*2");
-        three().and("r20*3;r20*2;r20*1").writes("line(2, 0)", ".*3 .*2 .*1").and("s20@4*2").writes("line(2, 0)", ".*3 .*2 .*1 4*2");
+        three().and("r20*3;r20*2;r20*1").writes("line(2, 0)", ".*3 .*2 .*1").and("s20@4*2")
+                .writes("line(2, 0)", ".*3 .*2 .*1 4*2");
         TestRun longest = eight().and("s37@0*1;s37@1*1;s37@2*1;s37@3*1;s37@4*1;r37*1", "s37@0*1;r37*1");
         longest.writes("line(3, 7)", "0*1 1*1 2*1 3*1 4*1 .*1 0*1 .*1").answers("line(3, 7)", 31);
         TestSentence.sentence(33, "Returns the length of the line.");
-        three().answersEach("line(#, 2)", 0, 0, 3).writes("line(0, 0)", "").and("step(0, 0, 4, 1)").answers("line(0, 0)", 3);
+        three().answersEach("line(#, 2)", 0, 0, 3).writes("line(0, 0)", "").and("step(0, 0, 4, 1)")
+                .answers("line(0, 0)", 3);
         three().and("stair(0, 0, 1, 2, false)").answers("line(0, 0)", 4);
         TestSentence.sentence(33, "in place of the line before");
         longest.and("line(3, 7)", "takeBack(3, 7)").writes("line(3, 7)", "0*1 1*1 2*1 3*1 4*1 .*1 0*1");
@@ -370,11 +394,14 @@ public final class TextEdgeTests {
 
     private static void lineOutside() {
         TestSentence.sentence(33, "Throws `IndexOutOfBoundsException` if there is no such sister or bar");
-        lively().throwingEach("line(#, 0)", TestRun.INDEX, -1, 4, MIN, MAX).throwingEach("line(0, #)", TestRun.INDEX, -1, 3, 8, MIN, MAX);
+        lively().throwingEach("line(#, 0)", TestRun.INDEX, -1, 4, MIN, MAX)
+                .throwingEach("line(0, #)", TestRun.INDEX, -1, 3, 8, MIN, MAX);
         lively().throwing("line(4, 3)", TestRun.INDEX).throwing("line(-1, -1)", TestRun.INDEX);
         eight().and("line(0, 0)").throwingEach("line(0, #)", TestRun.INDEX, -1, 8);
-        TestSentence.sentence(33, "The text buffer, the fault position, the reason and the line do not belong to it, and stay.");
-        lively().and("undo()").answers("character(0)", '1').answers("character(9)", '.').and("restore()").answers("character(9)", '.');
+        TestSentence.sentence(33,
+                "The text buffer, the fault position, the reason and the line do not belong to it, and stay.");
+        lively().and("undo()").answers("character(0)", '1').answers("character(9)", '.').and("restore()")
+                .answers("character(9)", '.');
         lively().and("line(0, 0)").isAs(lively());
         lively().and("takeBack(0, 0)", "takeBack(0, 0)").answers("character(9)", '.');
     }
@@ -382,9 +409,13 @@ public final class TextEdgeTests {
     // ---- promise 34 ----
 
     private static void staff() {
-        TestSentence.sentence(34, "for each beat \"-\" if no sister sounds on it, the sister if there is just one, and \"+\" if there are more");
-        TestRun house = three().and("step(0, 1, 4, 4)", "step(0, 1, 0, 4)", "step(1, 1, 4, 3)", "rest(1, 1, 1)", "step(1, 1, 0, 3)",
-                "step(2, 1, 4, 2)", "rest(2, 1, 2)", "step(2, 1, 0, 2)", "step(3, 1, 4, 1)", "rest(3, 1, 3)", "step(3, 1, 0, 1)");
+        TestSentence.sentence(34,
+                "for each beat \"-\" if no sister sounds on it, the sister if there is just one, "
+                + "and \"+\" if there are more");
+        TestRun house = three().and("step(0, 1, 4, 4)", "step(0, 1, 0, 4)", "step(1, 1, 4, 3)", "rest(1, 1, 1)",
+                "step(1, 1, 0, 3)",
+                "step(2, 1, 4, 2)", "rest(2, 1, 2)", "step(2, 1, 0, 2)", "step(3, 1, 4, 1)", "rest(3, 1, 3)",
+                "step(3, 1, 0, 1)");
         house.writes("staff(1, 4)", "+++0----").writes("staff(1, 0)", "----+++0").writes("staff(1, 1)", "--------")
                 .writes("staff(1, 2)", "--------").writes("staff(1, 3)", "--------").writes("staff(0, 4)", "--------")
                 .writes("staff(2, 0)", "--------");
@@ -392,10 +423,12 @@ public final class TextEdgeTests {
             eight().and("rest(" + sister + ", 7, 4)", "rest(" + sister + ", 7, 3)", "step(" + sister + ", 7, 4, 1)")
                     .writes("staff(7, 4)", "-------" + sister).writes("staff(6, 4)", "--------");
         }
-        three().and("stair(3, 0, 0, 4, true)", "stair(3, 0, 1, 4, false)").writes("staff(0, 0)", "33----33").writes("staff(0, 1)", "--3333--");
+        three().and("stair(3, 0, 0, 4, true)", "stair(3, 0, 1, 4, false)").writes("staff(0, 0)", "33----33")
+                .writes("staff(0, 1)", "--3333--");
         for (int one = 0; one < 4; one++) {
             for (int other = one + 1; other < 4; other++) {
-                three().and("step(" + one + ", 0, 0, 1)", "step(" + other + ", 0, 0, 1)").writes("staff(0, 0)", "+-------");
+                three().and("step(" + one + ", 0, 0, 1)", "step(" + other + ", 0, 0, 1)")
+                        .writes("staff(0, 0)", "+-------");
             }
         }
         three().and("step(0, 0, 2, 1)", "step(1, 0, 2, 1)", "step(2, 0, 2, 1)").writes("staff(0, 2)", "+-------")
@@ -403,7 +436,8 @@ public final class TextEdgeTests {
         TestSentence.sentence(34, "Returns the length of the line.");
         eight().answersEach("staff(#, 4)", 8, 0, 7).answersRow("staff(7, #)", 8, 8, 8, 8, 8);
         TestSentence.sentence(34, "in place of the line before");
-        house.and("line(0, 1)", "staff(1, 4)").writes("staff(1, 2)", "--------").and("line(0, 0)").writes("staff(1, 4)", "+++0----");
+        house.and("line(0, 1)", "staff(1, 4)").writes("staff(1, 2)", "--------").and("line(0, 0)")
+                .writes("staff(1, 4)", "+++0----");
         eight().and("s37@0*1;s37@1*1;s37@2*1;s37@3*1;s37@4*1;r37*1", "line(3, 7)").writes("staff(7, 3)", "---3----");
     }
 
@@ -412,10 +446,12 @@ public final class TextEdgeTests {
         lively().throwingEach("staff(#, 0)", TestRun.INDEX, -1, 3, 8, MIN, MAX);
         eight().throwingEach("staff(#, 0)", TestRun.INDEX, -1, 8);
         TestSentence.sentence(34, "Throws `IllegalArgumentException` if there is no such floor");
-        lively().throwingEach("staff(0, #)", TestRun.ARGUMENT, -1, 5, MIN, MAX).throwingEach("staff(2, #)", TestRun.ARGUMENT, -1, 5);
+        lively().throwingEach("staff(0, #)", TestRun.ARGUMENT, -1, 5, MIN, MAX)
+                .throwingEach("staff(2, #)", TestRun.ARGUMENT, -1, 5);
         TestSentence.sentence(34, "If several conditions of a method are fulfilled, the one that is listed first "
                 + "determines the exception.");
-        lively().throwingEach("staff(#, 5)", TestRun.INDEX, -1, 3, MIN, MAX).throwingEach("staff(#, -1)", TestRun.INDEX, -1, 3);
+        lively().throwingEach("staff(#, 5)", TestRun.INDEX, -1, 3, MIN, MAX)
+                .throwingEach("staff(#, -1)", TestRun.INDEX, -1, 3);
     }
 
     // ---- promise 35 ----
@@ -424,18 +460,21 @@ public final class TextEdgeTests {
         TestSentence.sentence(35, "Returns a character of the line, which is empty at first.");
         TestRun.after().throwingEach("character(#)", TestRun.INDEX, 0, -1, 1, 60, MIN, MAX);
         three().and("step(0, 0, 0, 1)").throwing("character(0)", TestRun.INDEX);
-        three().and("step(0, 0, 2, 4)", "line(0, 0)").answers("character(0)", '2').answers("character(1)", '*').answers("character(2)", '4');
+        three().and("step(0, 0, 2, 4)", "line(0, 0)").answers("character(0)", '2').answers("character(1)", '*')
+                .answers("character(2)", '4');
         TestSentence.sentence(35, "Throws `IndexOutOfBoundsException` if there is no such index");
         TestRun step = three().and("step(0, 0, 2, 4)", "line(0, 0)");
         step.throwingEach("character(#)", TestRun.INDEX, -1, 3, 4, 31, 59, 60, MIN, MAX);
         TestRun beats = three().and("step(0, 0, 2, 4)", "step(0, 0, 2, 4)", "staff(0, 2)");
-        beats.answers("character(0)", '0').answers("character(7)", '0').throwingEach("character(#)", TestRun.INDEX, -1, 8);
+        beats.answers("character(0)", '0').answers("character(7)", '0')
+                .throwingEach("character(#)", TestRun.INDEX, -1, 8);
         TestRun longest = eight().and("s37@0*1;s37@1*1;s37@2*1;s37@3*1;s37@4*1;r37*1", "s37@0*1;s37@3*1", "line(3, 7)");
         longest.answers("character(0)", '0').answers("character(30)", '1').answers("character(28)", '3')
                 .throwingEach("character(#)", TestRun.INDEX, -1, 31);
         longest.and("staff(7, 2)").answers("character(7)", '-').throwingEach("character(#)", TestRun.INDEX, 8, 30);
         longest.and("line(0, 0)").throwingEach("character(#)", TestRun.INDEX, -1, 0, 1, 30);
-        TestSentence.sentence(35, "A call that throws an exception leaves the state unchanged, unless stated otherwise.");
+        TestSentence.sentence(35,
+                "A call that throws an exception leaves the state unchanged, unless stated otherwise.");
         longest.and("!line(4, 7)", "!staff(8, 0)", "!staff(0, 5)", "!character(31)").answers("character(30)", '1');
         TestSentence.sentence(35, "What can be undone are the successful calls of bar, step, rest, stair, takeBack, "
                 + "quarrel, end, coda, noCoda and commands.");
@@ -445,13 +484,16 @@ public final class TextEdgeTests {
     // ---- promise 36 ----
 
     private static void meanSteps() {
-        TestSentence.sentence(36, "Returns the mean of the steps of the bars: the sum divided by their number, both as doubles.");
+        TestSentence.sentence(36,
+                "Returns the mean of the steps of the bars: the sum divided by their number, both as doubles.");
         three().answers("meanSteps()", 0.0).and("r00*4").answers("meanSteps()", 0.0);
         three().and("s00@0*1").answers("meanSteps()", 1.0 / 3.0).and("s12@4*4").answers("meanSteps()", 5.0 / 3.0);
         three().and("s01@0*1;u01@0*2").answers("meanSteps()", 1.0);
-        TestRun.after("b", "s00@1*4;s10@1*4;s20@1*4;s30@1*4", "s00@1*4;s10@1*4;s20@1*4;s30@1*4").answers("meanSteps()", 32.0)
+        TestRun.after("b", "s00@1*4;s10@1*4;s20@1*4;s30@1*4", "s00@1*4;s10@1*4;s20@1*4;s30@1*4")
+                .answers("meanSteps()", 32.0)
                 .and("b").answers("meanSteps()", 16.0);
-        eight().and("s37@4*1").answers("meanSteps()", 0.125).and("s37@4*4;s36@4*4;s06@0*4").answers("meanSteps()", 13.0 / 8.0);
+        eight().and("s37@4*1").answers("meanSteps()", 0.125).and("s37@4*4;s36@4*4;s06@0*4")
+                .answers("meanSteps()", 13.0 / 8.0);
         three().and("s01@0*2", "coda(0, 2)").answers("meanSteps()", 2.0 / 3.0);
         TestSentence.sentence(36, "Throws `ArithmeticException` if there are none");
         TestRun.after().throwing("meanSteps()", TestRun.QUOTIENT);
@@ -465,11 +507,14 @@ public final class TextEdgeTests {
     // ---- promise 37 ----
 
     private static void fullShare() {
-        TestSentence.sentence(37, "Returns what part of the rows of all sisters in all bars is full, both numbers as floats.");
+        TestSentence.sentence(37,
+                "Returns what part of the rows of all sisters in all bars is full, both numbers as floats.");
         three().answers("fullShare()", 0.0f).and("s00@0*4;s00@0*3").answers("fullShare()", 0.0f)
                 .and("s00@0*1").answers("fullShare()", 1.0f / 12.0f);
-        TestRun.after("b", "s00@0*4;s00@0*4").answers("fullShare()", 0.25f).and("r30*4;r30*4").answers("fullShare()", 0.5f)
-                .and("u10@0*4;d10@4*4;r20*4;s20@1*4").answers("fullShare()", 1.0f).and("b").answers("fullShare()", 0.5f);
+        TestRun.after("b", "s00@0*4;s00@0*4").answers("fullShare()", 0.25f).and("r30*4;r30*4")
+                .answers("fullShare()", 0.5f)
+                .and("u10@0*4;d10@4*4;r20*4;s20@1*4").answers("fullShare()", 1.0f).and("b")
+                .answers("fullShare()", 0.5f);
         TestRun eight = eight().and("s37@4*4;s37@4*4").answers("fullShare()", 1.0f / 32.0f);
         eight.and("x37").answers("fullShare()", 0.0f).and("s37@0*3").answers("fullShare()", 0.0f)
                 .and("r37*1").answers("fullShare()", 1.0f / 32.0f);
@@ -481,9 +526,11 @@ public final class TextEdgeTests {
                 all = all.and(rest, rest);
             }
         }
-        all.answers("fullShare()", 1.0f).and("undo()").answers("fullShare()", 31.0f / 32.0f).and("coda(0, 7)").answers("fullShare()", 31.0f / 32.0f);
+        all.answers("fullShare()", 1.0f).and("undo()").answers("fullShare()", 31.0f / 32.0f).and("coda(0, 7)")
+                .answers("fullShare()", 31.0f / 32.0f);
         TestSentence.sentence(37, "a bar is full for a sister if they last for 8");
-        three().and("r00*4;s00@0*2;u00@3*2").answers("fullShare()", 1.0f / 12.0f).and("x00").answers("fullShare()", 0.0f);
+        three().and("r00*4;s00@0*2;u00@3*2").answers("fullShare()", 1.0f / 12.0f).and("x00")
+                .answers("fullShare()", 0.0f);
         TestSentence.sentence(37, "Throws `ArithmeticException` if there are no bars");
         TestRun.after().throwing("fullShare()", TestRun.QUOTIENT);
         TestRun.after("save()", "b", "!n", "!b;", "append(98)", "undo()").throwing("fullShare()", TestRun.QUOTIENT);

@@ -37,7 +37,8 @@ public final class UndoEdgeTests {
 
     /** Five bars, with all that a house can hold; six changes. */
     private static TestRun filled() {
-        return TestRun.after(TestRun.bars(5), "s00@1*4;r00*1;u00@0*2;d34@4*4", "q010;q231;q021;e012", "s10@1*4;s34@1*2;x10;x34",
+        return TestRun.after(TestRun.bars(5), "s00@1*4;r00*1;u00@0*2;d34@4*4", "q010;q231;q021;e012",
+                "s10@1*4;s34@1*2;x10;x34",
                 "c1>3", "s20@2*1;s30@2*1;s21@2*1;s31@2*1");
     }
 
@@ -45,7 +46,8 @@ public final class UndoEdgeTests {
 
     private static void accountsOfBars() {
         TestSentence.sentence(38, "0 for the bars");
-        TestRun.after().answers("account(0)", 0).and("b").answers("account(0)", 1).and(TestRun.bars(7)).answers("account(0)", 8)
+        TestRun.after().answers("account(0)", 0).and("b").answers("account(0)", 1).and(TestRun.bars(7))
+                .answers("account(0)", 8)
                 .and("!bar()").answers("account(0)", 8).and("undo()").answers("account(0)", 1);
         TestSentence.sentence(38, "1 for the signs");
         TestRun signs = eight();
@@ -58,15 +60,18 @@ public final class UndoEdgeTests {
         }
         signs.answers("account(1)", 16).and("!rest(3, 7, 1)").answers("account(1)", 16);
         TestSentence.sentence(38, "2 for the steps of all bars");
-        three().answers("account(2)", 0).and("r00*4;r22*4").answers("account(2)", 0).and("s30@4*3;u11@0*2;s12@0*1").answers("account(2)", 6)
+        three().answers("account(2)", 0).and("r00*4;r22*4").answers("account(2)", 0).and("s30@4*3;u11@0*2;s12@0*1")
+                .answers("account(2)", 6)
                 .and("coda(0, 2)").answers("account(2)", 6).answers("playedSteps()", 4);
     }
 
     private static void accountsOfClashes() {
         TestSentence.sentence(38, "3 for the clashes of all bars");
         TestRun met = three().and("s00@1*4;s10@1*3;s01@1*4;s11@1*2;s02@1*4;s12@1*1");
-        met.answers("account(3)", 0).and("quarrel(0, 1, 0)").answers("account(3)", 6).and("coda(0, 2)").answers("account(3)", 6);
-        met.and("quarrel(0, 1, 0)", "end(0, 1, 2)").answers("account(3)", 5).and("quarrel(0, 2, 0)").answers("account(3)", 5);
+        met.answers("account(3)", 0).and("quarrel(0, 1, 0)").answers("account(3)", 6).and("coda(0, 2)")
+                .answers("account(3)", 6);
+        met.and("quarrel(0, 1, 0)", "end(0, 1, 2)").answers("account(3)", 5).and("quarrel(0, 2, 0)")
+                .answers("account(3)", 5);
         met.and("quarrel(0, 1, 2)").answers("account(3)", 1).and("s20@1*1;s30@1*1;q230").answers("account(3)", 2);
         TestSentence.sentence(38, "4 for the quarrels");
         TestRun six = eight().answers("account(4)", 0);
@@ -75,30 +80,37 @@ public final class UndoEdgeTests {
             six = six.and(pairs[pair]);
             six.answers("account(4)", pair + 1);
         }
-        six.and("!quarrel(0, 1, 0)", "end(1, 2, 1)").answers("account(4)", 6).and("undo()", "undo()").answers("account(4)", 5);
+        six.and("!quarrel(0, 1, 0)", "end(1, 2, 1)").answers("account(4)", 6).and("undo()", "undo()")
+                .answers("account(4)", 5);
         TestSentence.sentence(38, "Quarrels that have ended count among the quarrels.");
-        three().and("q010;e011").answers("account(4)", 1).answers("key(1)", 0).and("q230;e231").answers("account(4)", 2);
+        three().and("q010;e011").answers("account(4)", 1).answers("key(1)", 0).and("q230;e231")
+                .answers("account(4)", 2);
         three().and("q012;e013").answers("account(4)", 1).and("!q012").answers("account(4)", 1);
     }
 
     private static void accountsOfTheCoda() {
         TestSentence.sentence(38, "5 for the bars that are played");
         TestRun.after().answers("account(5)", 0).and("b").answers("account(5)", 1);
-        eight().answers("account(5)", 8).and("coda(0, 7)").answers("account(5)", 2).and("coda(5, 7)").answers("account(5)", 7)
+        eight().answers("account(5)", 8).and("coda(0, 7)").answers("account(5)", 2).and("coda(5, 7)")
+                .answers("account(5)", 7)
                 .and("noCoda()").answers("account(5)", 8);
         three().and("coda(0, 2)").answers("account(5)", 2).and("bar()").answers("account(5)", 3);
         TestSentence.sentence(38, "6 for the bar behind which is jumped, -1 without a coda");
-        eight().answers("account(6)", -1).and("coda(0, 7)").answers("account(6)", 0).and("coda(5, 7)").answers("account(6)", 5)
+        eight().answers("account(6)", -1).and("coda(0, 7)").answers("account(6)", 0).and("coda(5, 7)")
+                .answers("account(6)", 5)
                 .and("!coda(6, 7)").answers("account(6)", 5).and("noCoda()").answers("account(6)", -1);
         TestSentence.sentence(38, "7 for the coda, -1 for none");
-        eight().answers("account(7)", -1).and("coda(0, 7)").answers("account(7)", 7).and("coda(0, 2)").answers("account(7)", 2)
-                .and("!coda(6, 7)").answers("account(7)", 2).and("noCoda()").answers("account(7)", -1).and("undo()").answers("account(7)", 2);
+        eight().answers("account(7)", -1).and("coda(0, 7)").answers("account(7)", 7).and("coda(0, 2)")
+                .answers("account(7)", 2)
+                .and("!coda(6, 7)").answers("account(7)", 2).and("noCoda()").answers("account(7)", -1).and("undo()")
+                .answers("account(7)", 2);
     }
 
     private static void accountsOfChanges() {
         TestSentence.sentence(38, "8 for the signs taken away so far");
         TestRun signs = three().and("s00@1*1;r00*1;u00@0*2;s32@4*4");
-        signs.answers("account(8)", 0).and("takeBack(0, 0)").answers("account(8)", 1).and("x00;x32").answers("account(8)", 3)
+        signs.answers("account(8)", 0).and("takeBack(0, 0)").answers("account(8)", 1).and("x00;x32")
+                .answers("account(8)", 3)
                 .and("!x00;x32").answers("account(8)", 3).and("!takeBack(3, 2)").answers("account(8)", 3)
                 .and("s00@1*1;x00").answers("account(8)", 4);
         TestSentence.sentence(38, "9 for the changes that can be undone");
@@ -110,14 +122,17 @@ public final class UndoEdgeTests {
         }
         changes.and("undo()").answers("account(9)", 7).and("rest(0, 0, 1)").answers("account(9)", 8);
         TestSentence.sentence(38, "10 for the characters in the text buffer");
-        three().answers("account(10)", 0).and("append(98)").answers("account(10)", 1).and("commands()").answers("account(10)", 0);
-        three().and(TestRun.typed("b;b;".repeat(15))).answers("account(10)", 60).and("!append(98)").answers("account(10)", 60)
+        three().answers("account(10)", 0).and("append(98)").answers("account(10)", 1).and("commands()")
+                .answers("account(10)", 0);
+        three().and(TestRun.typed("b;b;".repeat(15))).answers("account(10)", 60).and("!append(98)")
+                .answers("account(10)", 60)
                 .and("!commands()").answers("account(10)", 0);
     }
 
     private static void accountOutside() {
         TestSentence.sentence(38, "Throws `IllegalArgumentException` if what is not from 0 to 10");
-        filled().and("save()", "append(98)", "line(0, 0)").throwingEach("account(#)", TestRun.ARGUMENT, -1, 11, 12, MIN, MAX);
+        filled().and("save()", "append(98)", "line(0, 0)")
+                .throwingEach("account(#)", TestRun.ARGUMENT, -1, 11, 12, MIN, MAX);
         TestSentence.sentence(38, "What can be undone are the successful calls of bar, step, rest, stair, takeBack, "
                 + "quarrel, end, coda, noCoda and commands.");
         TestRun house = filled().and("save()", "append(98)", "line(0, 0)");
@@ -132,8 +147,10 @@ public final class UndoEdgeTests {
     private static void undoOfEach() {
         TestSentence.sentence(39, "Undoes the latest call that can be undone.");
         String[] changes = {"bar()", "step(1, 0, 0, 4)", "step(3, 4, 4, 2)", "rest(0, 0, 1)", "rest(3, 4, 4)",
-            "stair(2, 4, 3, 4, true)", "stair(0, 1, 1, 2, false)", "takeBack(0, 0)", "takeBack(3, 4)", "quarrel(1, 2, 4)",
-            "quarrel(3, 0, 0)", "end(0, 1, 5)", "end(2, 3, 2)", "end(0, 2, 8)", "coda(0, 4)", "coda(2, 4)", "noCoda()", "b", "x00;x00;x00",
+            "stair(2, 4, 3, 4, true)", "stair(0, 1, 1, 2, false)", "takeBack(0, 0)", "takeBack(3, 4)",
+            "quarrel(1, 2, 4)",
+            "quarrel(3, 0, 0)", "end(0, 1, 5)", "end(2, 3, 2)", "end(0, 2, 8)", "coda(0, 4)", "coda(2, 4)",
+            "noCoda()", "b", "x00;x00;x00",
             "n;b;b;c0>6;q120;e128;e011;x34;s34@0*4;s34@1*4;s00@0*1"};
         TestRun more = filled().and("save()", "bar()", "takeBack(3, 1)", "rest(1, 1, 4)");
         for (String change : changes) {
@@ -143,7 +160,8 @@ public final class UndoEdgeTests {
         eight().and("coda(0, 2)", "undo()").isAs(eight());
         eight().and("coda(0, 2)", "noCoda()", "undo()").isAs(eight().and("coda(0, 2)"));
         TestRun row = three().and("s00@1*1;r00*1;u00@0*2;d00@4*4");
-        row.and("takeBack(0, 0)", "step(0, 0, 2, 4)", "takeBack(0, 0)", "takeBack(0, 0)", "takeBack(0, 0)", "step(0, 0, 4, 3)",
+        row.and("takeBack(0, 0)", "step(0, 0, 2, 4)", "takeBack(0, 0)", "takeBack(0, 0)", "takeBack(0, 0)",
+                "step(0, 0, 4, 3)",
                 "undo()", "undo()", "undo()", "undo()", "undo()", "undo()").isAs(row);
     }
 
@@ -162,7 +180,8 @@ public final class UndoEdgeTests {
         }
         TestSentence.sentence(39, "Throws `IllegalStateException` if there is none");
         back.throwing("undo()", TestRun.STATE).and("!undo()", "bar()").answers("undo()", 0);
-        TestRun.after().throwing("undo()", TestRun.STATE).and("!noCoda()", "!b;", "!n", "save()", "append(98)").throwing("undo()", TestRun.STATE);
+        TestRun.after().throwing("undo()", TestRun.STATE).and("!noCoda()", "!b;", "!n", "save()", "append(98)")
+                .throwing("undo()", TestRun.STATE);
         filled().and("undo()", "undo()", "undo()", "undo()", "undo()", "undo()").throwing("undo()", TestRun.STATE);
     }
 
@@ -206,8 +225,10 @@ public final class UndoEdgeTests {
                 + "quarrel, end, coda, noCoda and commands.");
         TestRun house = rests(9).and("step(0, 7, 1, 4)", "quarrel(0, 1, 7)", "rest(0, 7, 2)");
         String[] refused = {"!bar()", "!step(0, 7, 1, 4)", "!step(4, 7, 1, 4)", "!rest(0, 7, 4)", "!rest(0, 8, 1)",
-            "!stair(0, 7, 1, 4, true)", "!stair(0, 7, 0, 2, false)", "!takeBack(3, 7)", "!quarrel(1, 0, 0)", "!quarrel(1, 1, 0)",
-            "!end(0, 1, 7)", "!end(2, 3, 8)", "!coda(6, 7)", "!coda(0, 8)", "!noCoda()", "!n", "!x07;x07;x07;x07", "!c0>7;e018;q230;b", "!b;",
+            "!stair(0, 7, 1, 4, true)", "!stair(0, 7, 0, 2, false)", "!takeBack(3, 7)", "!quarrel(1, 0, 0)",
+            "!quarrel(1, 1, 0)",
+            "!end(0, 1, 7)", "!end(2, 3, 8)", "!coda(6, 7)", "!coda(0, 8)", "!noCoda()", "!n", "!x07;x07;x07;x07",
+            "!c0>7;e018;q230;b", "!b;",
             "!", "!restore()", "!floorAt(4, 0, 0)", "!played(8)", "!account(11)", "!reason(3)", "!character(0)"};
         for (String call : refused) {
             TestRun between = house.and(call, "rest(0, 7, 1)", call, call);
@@ -216,7 +237,8 @@ public final class UndoEdgeTests {
             undone(between, 7).isAs(undone(house.and("rest(0, 7, 1)"), 7));
             undone(between, 8).isAs(undone(house.and("rest(0, 7, 1)"), 8)).throwing("undo()", TestRun.STATE);
         }
-        house.and("save()", "floorAt(0, 0, 0)", "faultPosition()", "playedSteps()", "staff(7, 1)", "append(98)").answers("undo()", 7);
+        house.and("save()", "floorAt(0, 0, 0)", "faultPosition()", "playedSteps()", "staff(7, 1)", "append(98)")
+                .answers("undo()", 7);
     }
 
     private static void undoBack() {
@@ -236,12 +258,17 @@ public final class UndoEdgeTests {
     }
 
     private static void undoStays() {
-        TestSentence.sentence(39, "The text buffer, the fault position, the reason and the line do not belong to it, and stay.");
-        TestRun text = three().and("s00@2*2", "line(0, 0)", "!b;", "!takeBack(0, 2)", "append(98)", "append(59)", "takeBack(0, 0)");
-        text.and("undo()").answers("account(10)", 2).answers("faultPosition()", 2).answersRow("reason(#)", 6, 2, 0).answers("character(0)", '2');
-        text.and("undo()", "undo()", "undo()").answers("account(10)", 2).answers("faultPosition()", 2).answersRow("reason(#)", 6, 2, 0)
+        TestSentence.sentence(39,
+                "The text buffer, the fault position, the reason and the line do not belong to it, and stay.");
+        TestRun text = three().and("s00@2*2", "line(0, 0)", "!b;", "!takeBack(0, 2)", "append(98)", "append(59)",
+                "takeBack(0, 0)");
+        text.and("undo()").answers("account(10)", 2).answers("faultPosition()", 2).answersRow("reason(#)", 6, 2, 0)
+                .answers("character(0)", '2');
+        text.and("undo()", "undo()", "undo()").answers("account(10)", 2).answers("faultPosition()", 2)
+                .answersRow("reason(#)", 6, 2, 0)
                 .answers("character(2)", '2').answers("account(0)", 0);
-        text.and("append(98)", "undo()").answers("commands()", 2).and("commands()", "undo()", "undo()").answers("account(0)", 3);
+        text.and("append(98)", "undo()").answers("commands()", 2).and("commands()", "undo()", "undo()")
+                .answers("account(0)", 3);
     }
 
     // ---- promise 40 ----
@@ -252,7 +279,8 @@ public final class UndoEdgeTests {
                 .and("undo()").answers("save()", 1);
         eight().and("coda(0, 7)").answers("save()", 8);
         TestSentence.sentence(40, "Saves all that can be undone, in place of an earlier snapshot.");
-        TestRun twice = filled().and("save()", "bar()", "takeBack(0, 0)", "end(0, 1, 5)", "noCoda()", "quarrel(1, 2, 0)", "save()");
+        TestRun twice = filled().and("save()", "bar()", "takeBack(0, 0)", "end(0, 1, 5)", "noCoda()",
+                "quarrel(1, 2, 0)", "save()");
         twice.and("undo()", "undo()", "undo()", "restore()").holdsAs(twice);
         twice.and("restore()").answers("restore()", 6).holdsAs(twice);
         TestRun.after("b;b", "save()", "undo()", "save()").answers("restore()", 0);
@@ -279,14 +307,16 @@ public final class UndoEdgeTests {
         TestRun.after("save()", TestRun.bars(8)).answers("restore()", 0);
         TestRun.after("b", "save()", TestRun.bars(7)).answers("restore()", 1);
         eight().and("save()").answers("restore()", 8).and("undo()").answers("restore()", 8).answers("account(0)", 0);
-        eight().and("coda(0, 7)", "save()", "noCoda()").answers("restore()", 8).and("restore()").answers("account(5)", 2);
+        eight().and("coda(0, 7)", "save()", "noCoda()").answers("restore()", 8).and("restore()")
+                .answers("account(5)", 2);
     }
 
     private static void restoreAll() {
         TestSentence.sentence(41, "Restores what was saved");
         TestRun house = filled().and("save()");
         String[] changes = {"bar()", "step(1, 0, 0, 4)", "rest(0, 0, 1)", "stair(2, 4, 3, 4, true)", "takeBack(3, 4)",
-            "quarrel(1, 2, 4)", "end(0, 1, 5)", "end(2, 3, 8)", "coda(0, 4)", "noCoda()", "n;b;b;b;c0>7;q120;x34;s34@0*4"};
+            "quarrel(1, 2, 4)", "end(0, 1, 5)", "end(2, 3, 8)", "coda(0, 4)", "noCoda()",
+            "n;b;b;b;c0>7;q120;x34;s34@0*4"};
         for (String change : changes) {
             house.and(change, "restore()").holdsAs(house);
         }
@@ -294,13 +324,19 @@ public final class UndoEdgeTests {
         house.and("undo()", "undo()", "undo()", "undo()", "undo()", "undo()", "restore()").holdsAs(house);
         house.and("restore()").holdsAs(house);
         TestRun.after("save()", TestRun.bars(8), "s37@4*4;q010;c0>7;x37", "restore()").isAs(TestRun.after());
-        TestRun.after("save()", TestRun.bars(8), "s37@4*4;q010;c0>7;x37;s37@1*1", "restore()", TestRun.bars(8)).holdsAs(eight());
-        TestSentence.sentence(41, "The text buffer, the fault position, the reason and the line do not belong to it, and stay.");
-        TestRun text = three().and("save()", "s00@2*2", "line(0, 0)", "!b;", "!takeBack(0, 2)", "append(98)", "append(59)", "takeBack(0, 0)");
-        text.and("restore()").answers("account(10)", 2).answers("faultPosition()", 2).answersRow("reason(#)", 6, 2, 0).answers("character(2)", '2');
+        TestRun.after("save()", TestRun.bars(8), "s37@4*4;q010;c0>7;x37;s37@1*1", "restore()", TestRun.bars(8))
+                .holdsAs(eight());
+        TestSentence.sentence(41,
+                "The text buffer, the fault position, the reason and the line do not belong to it, and stay.");
+        TestRun text = three().and("save()", "s00@2*2", "line(0, 0)", "!b;", "!takeBack(0, 2)", "append(98)",
+                "append(59)", "takeBack(0, 0)");
+        text.and("restore()").answers("account(10)", 2).answers("faultPosition()", 2).answersRow("reason(#)", 6, 2, 0)
+                .answers("character(2)", '2');
         text.and("append(98)", "restore()").answers("commands()", 2).and("commands()").answers("account(0)", 5);
-        TestRun.after("!b;", "append(98)", "save()", "append(59)", "append(98)", "commands()", "!noCoda()", "staff(0, 0)", "restore()")
-                .answers("account(10)", 0).answers("faultPosition()", -1).answers("reason(0)", 12).answers("character(0)", '-');
+        TestRun.after("!b;", "append(98)", "save()", "append(59)", "append(98)", "commands()", "!noCoda()",
+                "staff(0, 0)", "restore()")
+                .answers("account(10)", 0).answers("faultPosition()", -1).answers("reason(0)", 12)
+                .answers("character(0)", '-');
     }
 
     private static void restoreKeeps() {
@@ -308,7 +344,8 @@ public final class UndoEdgeTests {
         TestRun house = filled().and("save()");
         house.and("restore()", "bar()", "takeBack(0, 0)", "noCoda()", "end(0, 1, 5)", "restore()").holdsAs(house);
         house.and("restore()", "takeBack(0, 0)", "undo()", "restore()", "restore()").holdsAs(house);
-        house.and("restore()", "x00;x00;x00;s00@4*4", "restore()", "quarrel(1, 2, 0)", "restore()").holdsAs(house).answers("restore()", 5);
+        house.and("restore()", "x00;x00;x00;s00@4*4", "restore()", "quarrel(1, 2, 0)", "restore()").holdsAs(house)
+                .answers("restore()", 5);
         TestRun other = house.and("restore()", "bar()", "save()", "noCoda()", "bar()");
         other.answers("restore()", 6).and("restore()").holdsAs(house.and("bar()"));
     }
@@ -326,7 +363,8 @@ public final class UndoEdgeTests {
             }
             int kept = Math.min(changes, MOST_UNDONE);
             more.answers("account(9)", kept).answers("undo()", kept - 1);
-            undone(more, kept).throwing("undo()", TestRun.STATE).holdsAs(changes <= kept ? house : house.and("step(2, 4, 0, 1)"));
+            undone(more, kept).throwing("undo()", TestRun.STATE)
+                    .holdsAs(changes <= kept ? house : house.and("step(2, 4, 0, 1)"));
         }
         house.and("bar()", "restore()").answers("account(9)", 0).throwing("undo()", TestRun.STATE);
     }
