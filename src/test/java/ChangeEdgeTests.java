@@ -38,11 +38,12 @@ public final class ChangeEdgeTests {
 
     private static void bar() {
         TestSentence.sentence(2, "At most 8 bars are there, numbered from 0 as they come");
+        eight().answers("account(0)", 8);
+        TestSentence.sentence(2, "Returns its number.");
         TestRun.after().answers("bar()", 0);
         for (int bars = 1; bars < 8; bars++) {
             TestRun.after(TestRun.bars(bars)).answers("bar()", bars);
         }
-        eight().answers("account(0)", 8);
         TestSentence.sentence(2, "2, there are 8 bars: how many");
         eight().refuses("bar()", 2, 8);
         eight().and("save()", "!bar()", "step(0, 7, 4, 4)").refuses("bar()", 2, 8);
@@ -95,6 +96,10 @@ public final class ChangeEdgeTests {
         TestRun full = five.and("s00@1*3");
         full.refusesEach("step(0, 0, 4, #)", 4, 0, 1, 2, 3, 4);
         three().and("s00@1*4;r00*3").refuses("step(0, 0, 4, 2)", 4, 1).answers("step(0, 0, 4, 1)", 0);
+        TestSentence.sentence(3,
+                "if it is refused for the reason 1, for the sister, the floor or the length, 3 or 4");
+        full.refuses("step(4, 1, 0, 1)", 1, 0).refuses("step(0, 1, 5, 1)", 1, 0).refuses("step(0, 1, 0, 0)", 1, 0);
+        full.refuses("step(0, 3, 0, 1)", 3, 3).refuses("step(0, 0, 0, 1)", 4, 0).answers("step(0, 1, 0, 1)", 7);
         TestSentence.sentence(3, "in the order in which it names them: 1, a number is out of range");
         full.refuses("step(4, 3, 0, 1)", 1, 0).refuses("step(0, 3, 5, 1)", 1, 0).refuses("step(0, 3, 0, 0)", 1, 0);
         full.refuses("step(0, 0, 5, 1)", 1, 0).refuses("step(0, 0, 0, 5)", 1, 0).refuses("step(0, 0, -1, 4)", 1, 0);

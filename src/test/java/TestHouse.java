@@ -1,5 +1,6 @@
 import java.lang.reflect.InvocationTargetException;
 import java.lang.reflect.Method;
+import java.util.Arrays;
 import java.util.HashMap;
 import java.util.Map;
 
@@ -52,7 +53,10 @@ final class TestHouse {
         try {
             return String.valueOf(method.invoke(x, arguments));
         } catch (InvocationTargetException e) {
-            return "throws." + e.getCause().getClass().getSimpleName();
+            Class<?> thrown = e.getCause().getClass();
+            boolean isTold = Arrays.asList(method.getExceptionTypes()).contains(thrown);
+            TestKit.due(method.getName() + " throws " + thrown.getName() + ", which the document names", isTold, true);
+            return "throws." + thrown.getSimpleName();
         } catch (IllegalAccessException e) {
             throw new IllegalStateException("the call is not public", e);
         }

@@ -63,6 +63,8 @@ public final class UndoEdgeTests {
         three().answers("account(2)", 0).and("r00*4;r22*4").answers("account(2)", 0).and("s30@4*3;u11@0*2;s12@0*1")
                 .answers("account(2)", 6)
                 .and("coda(0, 2)").answers("account(2)", 6).answers("playedSteps()", 4);
+        eight().and("s00@0*1;s37@4*2").answers("account(2)", 3).and("coda(0, 7)").answers("account(2)", 3)
+                .and("x37").answers("account(2)", 1);
     }
 
     private static void accountsOfClashes() {
@@ -73,6 +75,10 @@ public final class UndoEdgeTests {
         met.and("quarrel(0, 1, 0)", "end(0, 1, 2)").answers("account(3)", 5).and("quarrel(0, 2, 0)")
                 .answers("account(3)", 5);
         met.and("quarrel(0, 1, 2)").answers("account(3)", 1).and("s20@1*1;s30@1*1;q230").answers("account(3)", 2);
+        TestRun last = eight().and("q010;s00@1*1;s10@1*1;s07@4*3;s17@4*2");
+        last.answers("account(3)", 3).and("coda(0, 7)").answers("account(3)", 3);
+        last.and("x17").answers("account(3)", 1).and("x10").answers("account(3)", 0);
+        last.and("end(0, 1, 7)").answers("account(3)", 1).and("end(0, 1, 8)").answers("account(3)", 3);
         TestSentence.sentence(38, "4 for the quarrels");
         TestRun six = eight().answers("account(4)", 0);
         String[] pairs = {"q017", "q020", "q307", "q210", "q137", "q320"};
