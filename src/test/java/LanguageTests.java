@@ -24,6 +24,7 @@ public final class LanguageTests {
     public static void main(String[] args) throws IOException {
         String source = Files.readString(PROGRAM);
         faceIsThatOfTheDocument();
+        faceIsWrittenAsInTheDocument(source);
         onlyTheFaceCanBeSeen();
         noPrivateMethodBearsAPublicName();
         fieldsAreFew();
@@ -51,6 +52,21 @@ public final class LanguageTests {
         }
         TestKit.due("methods told", told.size(), 40);
         TestKit.due("methods", there, told);
+    }
+
+    /** Word for word, with the names of the parameters, and in the document's order. */
+    private static void faceIsWrittenAsInTheDocument(String source) throws IOException {
+        String written = source.replaceAll("\\s+", " ");
+        Matcher member = Pattern.compile("(?m)^    (public [^;]*);$").matcher(Files.readString(DOCUMENT));
+        int at = 0;
+        int members = 0;
+        while (member.find()) {
+            int found = written.indexOf(" " + member.group(1) + " {", at);
+            TestKit.due(member.group(1) + " stands behind the one before", found >= at, true);
+            at = Math.max(at, found);
+            members++;
+        }
+        TestKit.due("members told", members, 41);
     }
 
     private static String names(Class<?>[] types) {

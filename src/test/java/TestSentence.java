@@ -21,7 +21,7 @@ final class TestSentence {
         return title;
     }
 
-    /** The checks from here on test this sentence, which stands under the promise or in the terms. */
+    /** The checks from here on test this sentence, which stands under the promise, in the terms or ahead of them. */
     static void sentence(int promise, String quote) {
         sentence(promise, promise, quote);
     }
@@ -53,7 +53,7 @@ final class TestSentence {
     }
 
     private static boolean isTold(int promise, String quote) {
-        String terms = between("## Terms", "## Promise 1:");
+        String terms = between("## What it is", "## The public face") + between("## Terms", "## Promise 1:");
         String section = between("## Promise " + promise + ":",
                 promise == LAST_PROMISE ? "## Not promised" : "## Promise " + (promise + 1) + ":");
         return terms.contains(quote) || section.contains(quote);
